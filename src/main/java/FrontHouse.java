@@ -3217,7 +3217,18 @@ public final class FrontHouse {
             if (isArray(low) && isArray(to)) {
                 return subtypeRow(low, to);
             }
-            return isKind(low) && isKind(to) && asSuper(low, of(to)) == to;
+            return kindSubtype(low, to);
+        }
+
+        /** Of kinds; what has vars but no arguments is an erasure, below which all its types are. */
+        private boolean kindSubtype(int low, int to) {
+            if (!isKind(low) || !isKind(to)) {
+                return false;
+            }
+            if (argCount(to) == 0 && tree.kinds.get(of(to), K_VARS) > 0) {
+                return kindBelow(of(low), of(to));
+            }
+            return asSuper(low, of(to)) == to;
         }
 
         private boolean subtypeRow(int from, int to) {
@@ -3248,7 +3259,7 @@ public final class FrontHouse {
                     return true;
                 }
             }
-            return isKind(low) && isKind(to) && asSuper(low, of(to)) == to;
+            return kindSubtype(low, to);
         }
 
         /** Below, of primitive types too [4.10]. */
@@ -3415,6 +3426,7 @@ public final class FrontHouse {
             if (!isKind(b) || argCount(b) == 0) {
                 return false;
             }
+            a = boundOf(a);
             return !(subtype(b, a) && isKind(a) && settled(of(b), of(a)));
         }
 
