@@ -2,7 +2,7 @@
  * A house that reads classes by the Java Language Specification, Java SE 17.
  *
  * The text goes Words (signs, tokens) - Parser (tree, limits) - Heads (declarations) -
- * Bodies with Chooser (names, types, calls) - Flow and Assigned (what is reached, thrown,
+ * Bodies with Chooser (names, types, calls) - Flow (what is reached, thrown,
  * assigned) - Coder (steps for the machine) - Machine (runs). Every table is a Rows object
  * made once in a constructor: a call makes no objects.
  */
@@ -1086,7 +1086,7 @@ public final class FrontHouse {
 
     /** The tables of the text that is being judged, and the least fault that was found in them. */
     private static final class Tree {
-        private final Rows nodes = new Rows(6500, NODE_WIDTH);
+        private final Rows nodes = new Rows(4200, NODE_WIDTH);
         private final Rows kinds = new Rows(ALL_KINDS, KIND_WIDTH);
         private final Rows methods = new Rows(170, METHOD_WIDTH);
         private final Rows fields = new Rows(121, FIELD_WIDTH);
@@ -2817,8 +2817,8 @@ public final class FrontHouse {
         private static final int DEEPEST = 90;
 
         private final Tree tree;
-        private final Rows rows = new Rows(9000, 6);
-        private final int[] args = new int[24000];
+        private final Rows rows = new Rows(6000, 6);
+        private final int[] args = new int[16000];
         private int argsUsed;
         private final int[] work = new int[2000];
         private int workTop;
@@ -5768,8 +5768,17 @@ public final class FrontHouse {
         }
     }
 
-    /** Judges what can be reached and thrown: faults 60, 63, 64. */
+    /**
+     * Judges what can be reached and thrown (faults 60, 63, 64), then what is definitely assigned and
+     * unassigned [16] (61, 62): there a bit is a local (0 .. 39) or a final field.
+     */
     private static final class Flow {
+        private static final long ALL = -1L;
+        private static final long FIELD_BITS = ALL << 40;
+        private static final int IN_METHOD = 0;
+        private static final int IN_OBJECT = 1;
+        private static final int IN_START = 2;
+
         private final Tree tree;
         private final Types types;
         private final Heads heads;
@@ -5779,6 +5788,19 @@ public final class FrontHouse {
         private int home;
         private int spell;
         private boolean fixed;
+        private long da;
+        private long du;
+        private long daTrue;
+        private long duTrue;
+        private long daFalse;
+        private long duFalse;
+        private int mode;
+        private final int[] targets = new int[64];
+        private final int[] heights = new int[64];
+        private final long[] sums = new long[64 * 4];
+        private int targetCount;
+        private final long[] ends = new long[64 * 2];
+        private long endDa;
 
         Flow(Tree tree, Types types, Heads heads) {
             this.tree = tree;
@@ -6176,37 +6198,8 @@ public final class FrontHouse {
                 default: return false;
             }
         }
-    }
 
-    /** Judges what is definitely assigned and unassigned [16]: faults 61, 62. A bit is a local (0 .. 39) or a final field. */
-    private static final class Assigned {
-        private static final long ALL = -1L;
-        private static final long FIELD_BITS = ALL << 40;
-        private static final int IN_METHOD = 0;
-        private static final int IN_OBJECT = 1;
-        private static final int IN_START = 2;
-
-        private final Tree tree;
-        private long da;
-        private long du;
-        private long daTrue;
-        private long duTrue;
-        private long daFalse;
-        private long duFalse;
-        private int home;
-        private int mode;
-        private final int[] targets = new int[64];
-        private final int[] heights = new int[64];
-        private final long[] sums = new long[64 * 4];
-        private int targetCount;
-        private final int[] tries = new int[64];
-        private final long[] ends = new long[64 * 2];
-        private int tryCount;
-        private long endDa;
-
-        Assigned(Tree tree) {
-            this.tree = tree;
-        }
+        // ---- what is assigned [16]
 
         void judgeAssigned() {
             for (int k = BUILT_INS; k < tree.kinds.size(); k++) {
@@ -6401,10 +6394,10 @@ public final class FrontHouse {
 
         private void visitParts(int n) {
             int kind = tree.node(n, KD);
-            if (Flow.partA(kind)) {
+            if (partA(kind)) {
                 visitPart(tree.node(n, CA));
             }
-            if (Flow.partB(kind)) {
+            if (partB(kind)) {
                 visitAll(tree.node(n, CB));
             }
         }
@@ -6521,7 +6514,7 @@ public final class FrontHouse {
 
         // ---- jumps
 
-        private int enter(int n) {
+        private int enterTarget(int n) {
             int i = Math.min(targetCount, targets.length - 1);
             targets[i] = n;
             heights[i] = tryCount;
@@ -6581,7 +6574,7 @@ public final class FrontHouse {
                 case S_DO: doStatement(n); break;
                 case S_EACH: eachStatement(n); break;
                 case S_LABEL: {
-                    int i = enter(n);
+                    int i = enterTarget(n);
                     statement(tree.node(n, CA));
                     da &= sums[i * 4];
                     du &= sums[i * 4 + 1];
@@ -6645,7 +6638,7 @@ public final class FrontHouse {
                 visitAll(init);
             }
             int condition = tree.node(n, plain ? CA : CB);
-            int i = enter(n);
+            int i = enterTarget(n);
             long ahead = da;
             long open = du;
             long outDa = ALL;
@@ -6687,7 +6680,7 @@ public final class FrontHouse {
         }
 
         private void doStatement(int n) {
-            int i = enter(n);
+            int i = enterTarget(n);
             long ahead = da;
             long open = du;
             for (int round = 0; round < 70; round++) {
@@ -6711,7 +6704,7 @@ public final class FrontHouse {
         private void eachStatement(int n) {
             visit(tree.node(n, CC));
             int bit = localBit(tree.node(tree.node(tree.node(n, CA), CB), SY));
-            int i = enter(n);
+            int i = enterTarget(n);
             long ahead = da;
             long open = du;
             for (int round = 0; round < 70; round++) {
@@ -6746,7 +6739,7 @@ public final class FrontHouse {
             long ahead = da & ~own;
             long open = du | own;
             boolean some = tree.node(n, CB) != 0;
-            int i = enter(n);
+            int i = enterTarget(n);
             if (some) {
                 die();
             }
@@ -7994,13 +7987,10 @@ public final class FrontHouse {
                 }
                 case O_POP: pop(); break;
                 case O_DUP: push(peek(0)); break;
-                case O_DUP2: {
-                    long under = peek(1);
-                    long over = peek(0);
-                    push(under);
-                    push(over);
+                case O_DUP2:
+                    push(peek(1));
+                    push(peek(1));
                     break;
-                }
                 case O_DUPX1: dig(1); break;
                 case O_DUPX2: dig(2); break;
                 case O_JUMP: pc = word(); break;
@@ -8085,6 +8075,12 @@ public final class FrontHouse {
                     push(Bodies.shaped(pop(), prim));
                     break;
                 }
+                default: doBoxes(op);
+            }
+        }
+
+        private void doBoxes(int op) {
+            switch (op) {
                 case O_BOX: {
                     int prim = word();
                     box(prim, pop());
@@ -8172,6 +8168,24 @@ public final class FrontHouse {
                     break;
                 }
                 case O_ARRAY: doArray(); break;
+                case O_NULLCHECK:
+                    if (peek(0) == 0) {
+                        raise(NULLPOINTER);
+                    }
+                    break;
+                case O_PUT: putOut(word()); break;
+                case O_NEXT: {
+                    int i = facts[6];
+                    facts[6]++;
+                    push(i < givenCount && i < given.length ? given[i] : 0);
+                    break;
+                }
+                default: doBodies(op);
+            }
+        }
+
+        private void doBodies(int op) {
+            switch (op) {
                 case O_CALL: open(word()); break;
                 case O_CALLV: dispatch(word()); break;
                 case O_RET: close(); break;
@@ -8190,22 +8204,10 @@ public final class FrontHouse {
                     }
                     break;
                 }
-                case O_NULLCHECK:
-                    if (peek(0) == 0) {
-                        raise(NULLPOINTER);
-                    }
-                    break;
                 case O_ENDSTART:
                     states[Math.max(0, Math.min(ALL_KINDS - 1, -1 - frames.get(frames.size() - 1, 2)))] = 2;
                     close();
                     break;
-                case O_PUT: putOut(word()); break;
-                case O_NEXT: {
-                    int i = facts[6];
-                    facts[6]++;
-                    push(i < givenCount && i < given.length ? given[i] : 0);
-                    break;
-                }
                 default: ending = ENDED;
             }
         }
@@ -8482,7 +8484,6 @@ public final class FrontHouse {
     private final Heads heads = new Heads(tree, types);
     private final Bodies bodies = new Bodies(tree, types, heads);
     private final Flow flow = new Flow(tree, types, heads);
-    private final Assigned assigned = new Assigned(tree);
     private final Told told = new Told();
     private final Coder coder = new Coder(tree, types, heads, told);
     private final Machine machine = new Machine(told, given);
@@ -8551,7 +8552,7 @@ public final class FrontHouse {
             case 3: bodies.judgeBodies(); break;
             default:
                 flow.judgeFlow();
-                assigned.judgeAssigned();
+                flow.judgeAssigned();
         }
     }
 
