@@ -4644,7 +4644,7 @@ public final class FrontHouse {
                     int init = tree.fields.get(f, F_INIT);
                     int t = tree.fields.get(f, F_TYPE);
                     boolean may = tree.fields.has(f, F_FLAGS, FINAL) && init != 0 && types.isPrim(t);
-                    if (may && tree.fields.get(f, F_CONST) == 0 && tree.node(init, KD) != E_INIT) {
+                    if (may && tree.fields.get(f, F_CONST) == 0 && mayFold(init)) {
                         enterField(f);
                         assign(init, t);
                         if (isConstant(init) && sameSort(tree.node(init, TY), t)) {
@@ -4656,6 +4656,21 @@ public final class FrontHouse {
                 }
             }
             tree.quiet = false;
+        }
+
+        /** Whether an expression has nothing in it that is never a constant. */
+        private boolean mayFold(int n) {
+            switch (tree.node(n, KD)) {
+                case E_NAME:
+                case E_LIT: return true;
+                case E_FIELD: return tree.node(tree.node(n, CA), KD) == E_NAME;
+                case E_PRE:
+                case E_CAST: return mayFold(tree.node(n, CA));
+                case E_BIN: return mayFold(tree.node(n, CA)) && mayFold(tree.node(n, CB));
+                case E_COND:
+                    return mayFold(tree.node(n, CA)) && mayFold(tree.node(n, CB)) && mayFold(tree.node(n, CC));
+                default: return false;
+            }
         }
 
         private boolean sameSort(int a, int b) {
