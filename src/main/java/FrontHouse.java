@@ -1226,6 +1226,8 @@ public final class FrontHouse {
         private int fault;
         private int spot;
         private int reach;
+        private int reachFrom;
+        private int reachNest;
         private boolean reachRefused;
         private int scanStop;
         private boolean scanRefused;
@@ -1291,11 +1293,21 @@ public final class FrontHouse {
             }
             int now = at * 4 + half;
             if (now < reach) {
-                boolean refused = reachRefused || words.kindOf(reach / 4) == T_REFUSED;
-                stop(refused ? 2 : 1, words.placeOf(reach / 4, reach % 4));
+                readOtherwise();
             } else {
                 stop(tok == T_REFUSED || (now == reach && reachRefused) ? 2 : 1, here());
             }
+        }
+
+        /** Reads as a type what went on longer as one, so that what is wrong there is met. */
+        private void readOtherwise() {
+            at = reachFrom;
+            half = 0;
+            nest = reachNest;
+            tok = words.kindOf(at);
+            reach = -1;
+            readType();
+            wrong();
         }
 
         private void refuse() {
@@ -1933,14 +1945,16 @@ public final class FrontHouse {
             if (behind >= 0 && behind % 4 == 0 && words.kindOf(behind / 4) == T_NAME) {
                 return true;
             }
-            reachTo(behind);
+            reachTo(behind, at, nest);
             return false;
         }
 
-        private void reachTo(int behind) {
+        private void reachTo(int behind, int from, int depth) {
             int goal = behind >= 0 ? behind : scanStop;
             if (goal > reach) {
                 reach = goal;
+                reachFrom = from;
+                reachNest = depth;
                 reachRefused = behind < 0 && scanRefused;
             }
         }
@@ -2441,20 +2455,28 @@ public final class FrontHouse {
             return right;
         }
 
+        /** A right side: it is nested from its first token on. */
+        private int readRight(int level) {
+            if (beginsExp(tok)) {
+                enter();
+            } else {
+                nest++;
+            }
+            int n = readExp(level);
+            leave();
+            return n;
+        }
+
         private int readConditional(int condition) {
             int n = make(E_COND, here());
-            enter();
             next();
-            int yes = readExp(0);
-            leave();
+            int yes = readRight(0);
             if (tok != T_COLON) {
                 wrong();
                 return n;
             }
-            enter();
             next();
-            int no = readExp(1);
-            leave();
+            int no = readRight(1);
             tree.set(n, CA, condition);
             tree.set(n, CB, yes);
             tree.set(n, CC, no);
@@ -2465,10 +2487,8 @@ public final class FrontHouse {
         private int readAssignment(int left) {
             int n = make(E_ASSIGN, here());
             tree.set(n, OP, tok);
-            enter();
             next();
-            int right = readExp(0);
-            leave();
+            int right = readRight(0);
             tree.set(n, CA, left);
             tree.set(n, CB, right);
             deepen(n, Math.max(depth(left), depth(right)));
@@ -2531,7 +2551,7 @@ public final class FrontHouse {
             }
             int behind = scan(at + 1);
             if (behind < 0 || words.kindBehind(behind / 4, behind % 4) != T_RPAREN) {
-                reachTo(behind);
+                reachTo(behind, at + 1, nest + 1);
                 return false;
             }
             return behind != (at + 2) * 4 || followsCast(words.kindOf(behind / 4 + 1));
