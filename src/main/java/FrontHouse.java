@@ -7672,7 +7672,17 @@ public final class FrontHouse {
                 return;
             }
             codeHolder(n);
-            codeGet(n);
+            int f = tree.node(n, SY);
+            if (tree.fields.get(f, F_CONST) != 1) {
+                codeGet(n);
+                return;
+            }
+            // a constant's value is never read from the field [13.1]
+            if (!isStatic(n)) {
+                told.emit(O_NULLCHECK);
+                told.emit(O_POP);
+            }
+            number(tree.fields.wide(f, F_LO));
         }
 
         private void codeGet(int n) {
@@ -7680,9 +7690,7 @@ public final class FrontHouse {
             if (!isStatic(n)) {
                 put(O_GETF, tree.fields.get(f, F_SLOT));
             } else {
-                if (tree.fields.get(f, F_CONST) != 1) {
-                    put(O_START, tree.fields.get(f, F_KIND));
-                }
+                put(O_START, tree.fields.get(f, F_KIND));
                 put(O_GETS, tree.fields.get(f, F_SLOT));
             }
             look(tree.fields.get(f, F_TYPE), tree.node(n, TY));

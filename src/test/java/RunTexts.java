@@ -163,7 +163,7 @@ public final class RunTexts {
         puts("Object o = new int[1][1]; Out.put(o instanceof int[][]); Out.put(o instanceof Object[]); Out.put(o instanceof int[]); Out.put(null instanceof Object);",
             "0:1 0:1 0:0 0:0");
         due("class A { int x = 5; A() { show(); } void show() { Out.put(x); } } class B extends A { int y = 6; final int z = 7; void show() { Out.put(y); Out.put(z); Out.put(this.z); super.show(); } } class Main { static void main() { new B().show(); } }",
-            99, 99, new int[] {0, 0, -9, 4, 5}, "1:0 1:7 1:0 1:5 1:6 1:7 1:7 1:5");
+            99, 99, new int[] {0, 0, -9, 4, 5}, "1:0 1:7 1:7 1:5 1:6 1:7 1:7 1:5");
     }
 
     private static void generics() {
