@@ -222,12 +222,10 @@ public final class FrontHouse {
     private static final int K_PARENT = 15;
     private static final int K_MEM0 = 16;
     private static final int K_MEM1 = 17;
-    private static final int K_SIZE = 18;
     private static final int K_CTOR = 19;
     private static final int K_DONE = 20;
     private static final int K_TWICE = 21;
     private static final int K_PTYPE = 22;
-    private static final int K_START = 23;
     private static final int K_INIT = 24;
     private static final int K_BLANKS = 25;
     private static final int KIND_WIDTH = 26;
@@ -254,8 +252,6 @@ public final class FrontHouse {
     private static final int M_CALLS = 18;
     private static final int M_PHASE = 19;
     private static final int M_VIEW = 20;
-    private static final int M_CODE = 21;
-    private static final int M_FRAME = 22;
     private static final int METHOD_WIDTH = 23;
 
     // columns of a field
@@ -280,7 +276,6 @@ public final class FrontHouse {
     private static final int V_PLACE = 1;
     private static final int V_BNODE = 2;
     private static final int V_BOUND = 3;
-    private static final int V_TYPE = 4;
     private static final int VAR_WIDTH = 5;
     private static final int C_KIND = 0;
     private static final int C_VAR0 = 1;
@@ -1375,6 +1370,14 @@ public final class FrontHouse {
             return Math.max(n, 0);
         }
 
+        /** Hangs a node behind the last one of a list; the list's first one. */
+        private int link(int first, int last, int n) {
+            if (last != 0) {
+                tree.set(last, NX, n);
+            }
+            return first == 0 ? n : first;
+        }
+
         private int makeStatement(int kind) {
             int n = make(kind, here());
             tree.set(n, FI, here());
@@ -1419,8 +1422,7 @@ public final class FrontHouse {
             for (int i = 0; i < MANY && modifier(tok); i++) {
                 int n = make(X_MOD, here());
                 tree.set(n, OP, modifierFlag(tok));
-                first = first == 0 ? n : first;
-                tree.set(last, NX, last == 0 ? 0 : n);
+                first = link(first, last, n);
                 last = n;
                 next();
             }
@@ -1570,8 +1572,7 @@ public final class FrontHouse {
                     break;
                 }
                 int n = readRef();
-                first = first == 0 ? n : first;
-                tree.set(last, NX, last == 0 ? 0 : n);
+                first = link(first, last, n);
                 last = n;
                 if (tok != T_COMMA) {
                     break;
@@ -1647,8 +1648,7 @@ public final class FrontHouse {
                     break;
                 }
                 int n = readType();
-                first = first == 0 ? n : first;
-                tree.set(last, NX, last == 0 ? 0 : n);
+                first = link(first, last, n);
                 last = n;
                 if (tree.node(n, OP) != 0 && tree.node(n, CD) == 0) {
                     wrong();
@@ -1757,8 +1757,7 @@ public final class FrontHouse {
                     break;
                 }
                 int n = readFormal();
-                first = first == 0 ? n : first;
-                tree.set(last, NX, last == 0 ? 0 : n);
+                first = link(first, last, n);
                 last = n;
                 dots = (tree.node(n, FL) & DOTS) != 0 ? VARARGS : 0;
                 if (tok != T_COMMA || dots != 0) {
@@ -1874,8 +1873,7 @@ public final class FrontHouse {
             int last = 0;
             for (int i = 0; i < MANY && tok != T_RBRACE && fault == 0; i++) {
                 int s = readStatement(true);
-                first = first == 0 ? s : first;
-                tree.set(last, NX, last == 0 ? 0 : s);
+                first = link(first, last, s);
                 last = s;
             }
             tree.set(n, CA, first);
@@ -2041,8 +2039,7 @@ public final class FrontHouse {
             for (int i = 0; i < MANY && fault == 0; i++) {
                 int d = readName(type, flags);
                 readNameDims(d, type);
-                first = first == 0 ? d : first;
-                tree.set(last, NX, last == 0 ? 0 : d);
+                first = link(first, last, d);
                 last = d;
                 readInitOf(d);
                 if (tok != T_COMMA) {
@@ -2078,8 +2075,7 @@ public final class FrontHouse {
                     break;
                 }
                 int e = readInit();
-                first = first == 0 ? e : first;
-                tree.set(last, NX, last == 0 ? 0 : e);
+                first = link(first, last, e);
                 last = e;
                 deep = Math.max(deep, tree.node(e, FI));
                 if (tok != T_COMMA) {
@@ -2220,8 +2216,7 @@ public final class FrontHouse {
             int last = 0;
             for (int i = 0; i < MANY && fault == 0; i++) {
                 int e = readActing();
-                first = first == 0 ? e : first;
-                tree.set(last, NX, last == 0 ? 0 : e);
+                first = link(first, last, e);
                 last = e;
                 if (tok != T_COMMA) {
                     break;
@@ -2327,8 +2322,7 @@ public final class FrontHouse {
                 } else {
                     s = readStatement(true);
                 }
-                first = first == 0 ? s : first;
-                tree.set(last, NX, last == 0 ? 0 : s);
+                first = link(first, last, s);
                 last = s;
             }
             tree.set(n, CB, first);
@@ -2728,8 +2722,7 @@ public final class FrontHouse {
                 }
                 int e = readExp(0);
                 deep = Math.max(deep, depth(e));
-                first = first == 0 ? e : first;
-                tree.set(last, NX, last == 0 ? 0 : e);
+                first = link(first, last, e);
                 last = e;
                 if (tok != T_COMMA) {
                     break;
@@ -2813,8 +2806,7 @@ public final class FrontHouse {
                 } else {
                     int e = readExp(0);
                     deep = Math.max(deep, depth(e));
-                    first = first == 0 ? e : first;
-                    tree.set(last, NX, last == 0 ? 0 : e);
+                    first = link(first, last, e);
                     last = e;
                 }
                 close(T_RBRACK);
@@ -2929,11 +2921,6 @@ public final class FrontHouse {
             }
         }
 
-        void dropWork(int mark) {
-            if (mark >= 0 && mark <= workTop) {
-                workTop = mark;
-            }
-        }
 
         /** A kind with the arguments that were pushed behind the mark. */
         int kindWith(int k, int mark) {
