@@ -4845,8 +4845,8 @@ public final class FrontHouse {
                 case S_EXP: typeOf(tree.node(n, CA)); break;
                 case S_IF:
                     condition(tree.node(n, CA));
-                    nested(tree.node(n, CB));
-                    nested(tree.node(n, CC));
+                    statement(tree.node(n, CB));
+                    statement(tree.node(n, CC));
                     break;
                 case S_WHILE:
                 case S_DO:
@@ -4854,7 +4854,7 @@ public final class FrontHouse {
                         condition(tree.node(n, CA));
                     }
                     push(n);
-                    nested(tree.node(n, CB));
+                    statement(tree.node(n, CB));
                     jumpCount--;
                     if (tree.node(n, KD) == S_DO) {
                         condition(tree.node(n, CA));
@@ -4877,12 +4877,6 @@ public final class FrontHouse {
                     }
                     break;
                 default: break;
-            }
-        }
-
-        private void nested(int n) {
-            if (n != 0) {
-                statement(n);
             }
         }
 
@@ -4916,7 +4910,7 @@ public final class FrontHouse {
             }
             typeAll(tree.node(n, CC));
             push(n);
-            nested(tree.node(n, CD));
+            statement(tree.node(n, CD));
             jumpCount--;
             nameCount = mark;
         }
@@ -4943,7 +4937,7 @@ public final class FrontHouse {
             }
             declare(decl, kept, L_GIVEN);
             push(n);
-            nested(tree.node(n, CD));
+            statement(tree.node(n, CD));
             jumpCount--;
             nameCount = mark;
         }
@@ -5004,7 +4998,7 @@ public final class FrontHouse {
                 statement(tree.node(c, CC));
                 nameCount = mark;
             }
-            nested(tree.node(n, CC));
+            statement(tree.node(n, CC));
         }
 
         private void switchStatement(int n) {
@@ -5067,7 +5061,7 @@ public final class FrontHouse {
                 }
             }
             push(n);
-            nested(tree.node(n, CA));
+            statement(tree.node(n, CA));
             jumpCount--;
         }
 
@@ -8268,7 +8262,7 @@ public final class FrontHouse {
                 raise(INDEX);
                 return;
             }
-            int at = a + 2 + (int) index;
+            int at = Math.min(a + 2 + (int) index, cells.length - 1);
             if (op == O_ASTORE) {
                 int part = shapes[a] - 1;
                 boolean thing = (part & 15) > 0 || part >> 4 >= 8;
