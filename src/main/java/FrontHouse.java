@@ -2449,13 +2449,10 @@ public final class FrontHouse {
             return right;
         }
 
-        /** A right side: it is nested from its first token on. */
+        /** The right side of the sign that stands here; it is nested. */
         private int readRight(int level) {
-            if (beginsExp(tok)) {
-                enter();
-            } else {
-                nest++;
-            }
+            enter();
+            next();
             int n = readExp(level);
             leave();
             return n;
@@ -2463,13 +2460,11 @@ public final class FrontHouse {
 
         private int readConditional(int condition) {
             int n = make(E_COND, here());
-            next();
             int yes = readRight(0);
             if (tok != T_COLON) {
                 wrong();
                 return n;
             }
-            next();
             int no = readRight(1);
             tree.set(n, CA, condition);
             tree.set(n, CB, yes);
@@ -2481,7 +2476,6 @@ public final class FrontHouse {
         private int readAssignment(int left) {
             int n = make(E_ASSIGN, here());
             tree.set(n, OP, tok);
-            next();
             int right = readRight(0);
             tree.set(n, CA, left);
             tree.set(n, CB, right);

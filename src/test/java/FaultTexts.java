@@ -193,7 +193,7 @@ public final class FaultTexts {
         due(3, "class A { final int " + names(20) + ", `z; }");
         due(3, "class A { void f() { " + times("if (true) ", 21) + "if `(true) ; } }");
         due(3, "class A { void f() { " + times("do ", 22) + "`do ; } }");
-        due(3, "class A { void f() { int i; i " + times("= i ", 22) + "= `1; } }");
+        due(3, "class A { void f() { int i; i " + times("= i ", 22) + "`= 1; } }");
         body(3, "A<A, A, A, A, A, A, `A 5;");
     }
 
