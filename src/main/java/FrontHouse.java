@@ -2652,8 +2652,7 @@ public final class FrontHouse {
                 return 0;
             }
             next();
-            int n = readBehindDot(0, place + 1);
-            return n;
+            return readBehindDot(0, place + 1);
         }
 
         private int readDotted(int left) {
@@ -5006,6 +5005,7 @@ public final class FrontHouse {
             if (t != 0) {
                 tree.set(e, CV, types.isPrim(t) ? 0 : 5);
                 tree.set(e, TG, p);
+                t = types.isVar(t) ? types.box(p) : t;
             }
             int mark = nameCount;
             int defaults = 0;

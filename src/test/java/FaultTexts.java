@@ -363,6 +363,8 @@ public final class FaultTexts {
         body(50, "switch (n) { case 1: case `1: }");
         body(50, "switch (n) { default: `default: }");
         body(50, "byte b = 1; switch (b) { case `200: }");
+        fine("class A<T extends Byte> { void f(T t) { switch (t) { case 1: } } }");
+        due(50, "class A<T extends Byte> { void f(T t) { switch (t) { case `200: } } }");
         body(51, "`break;");
         body(51, "`continue;");
         body(51, "a: { `continue a; }");
