@@ -403,17 +403,30 @@ public final class FrontHouse {
     private static final int O_NULLCHECK = 43;
     private static final int O_ENDSTART = 44;
 
-    /** A table of numbers. Rows that aren't there read as 0 and take nothing, so no index is ever wrong. */
+    // a shape, a type as the machine knows it, has its [ ] in its lower bits
+    private static final int DIM_BITS = 16;
+    private static final int DIM_MOST = 65535;
+
+    /**
+     * A table of numbers. Rows that aren't there read as 0 and take nothing, so no index is ever wrong.
+     * What few texts need stands in parts, that are made when they are needed first.
+     */
     private static final class Rows {
         private final int[] cells;
         private final int width;
         private final int limit;
+        private final Rows[] parts;
         private int used;
 
         Rows(int limit, int width) {
-            this.limit = Math.max(0, limit);
+            this(limit, width, 0);
+        }
+
+        Rows(int limit, int width, int parts) {
+            this.limit = Math.max(1, limit);
             this.width = Math.max(1, width);
             this.cells = new int[this.limit * this.width];
+            this.parts = parts > 0 ? new Rows[parts] : null;
         }
 
         int size() {
@@ -421,14 +434,20 @@ public final class FrontHouse {
         }
 
         void cut(int n) {
-            if (n >= 0 && n < used) {
-                used = n;
+            if (n < 0 || n >= used) {
+                return;
             }
+            for (int p = 0; parts != null && p < parts.length; p++) {
+                if (parts[p] != null) {
+                    parts[p].cut(Math.max(0, n - limit * (p + 1)));
+                }
+            }
+            used = n;
         }
 
         int add() {
             if (used >= limit) {
-                return -1;
+                return addPart();
             }
             int from = used * width;
             for (int i = 0; i < width; i++) {
@@ -438,16 +457,46 @@ public final class FrontHouse {
             return used - 1;
         }
 
+        private int addPart() {
+            int p = used / limit - 1;
+            if (parts == null || p < 0 || p >= parts.length) {
+                return -1;
+            }
+            if (parts[p] == null) {
+                parts[p] = new Rows(limit, width);
+            }
+            parts[p].add();
+            used++;
+            return used - 1;
+        }
+
+        private Rows partOf(int row) {
+            int p = row / limit - 1;
+            return parts != null && p >= 0 && p < parts.length ? parts[p] : null;
+        }
+
         int get(int row, int column) {
             if (row < 0 || row >= used || column < 0 || column >= width) {
                 return 0;
             }
-            return cells[row * width + column];
+            if (row < limit) {
+                return cells[row * width + column];
+            }
+            Rows part = partOf(row);
+            return part == null ? 0 : part.get(row % limit, column);
         }
 
         void put(int row, int column, int value) {
-            if (row >= 0 && row < used && column >= 0 && column < width) {
+            if (row < 0 || row >= used || column < 0 || column >= width) {
+                return;
+            }
+            if (row < limit) {
                 cells[row * width + column] = value;
+                return;
+            }
+            Rows part = partOf(row);
+            if (part != null) {
+                part.put(row % limit, column, value);
             }
         }
 
@@ -900,9 +949,6 @@ public final class FrontHouse {
             int c = signAt(from + 1);
             int behind = from + 2;
             int value = c;
-            if (c == BAD_BYTE) {
-                return addToken(T_BAD, from + 1, 0);
-            }
             if (c < 0 || c == '\'' || c == 10 || c == 13) {
                 return addToken(T_BAD, from, 0);
             }
@@ -914,11 +960,11 @@ public final class FrontHouse {
                     value = octalValue(from + 2, behind);
                 }
                 if (value < 0) {
-                    return addToken(T_BAD, signAt(from + 2) == BAD_BYTE ? from + 2 : from, 0);
+                    return addToken(T_BAD, from, 0);
                 }
             }
             if (signAt(behind) != '\'') {
-                return addToken(T_BAD, signAt(behind) == BAD_BYTE ? behind : from, 0);
+                return addToken(T_BAD, from, 0);
             }
             boolean more = addToken(T_CHAR, from, behind + 1 - from);
             tokens.putWide(tokens.size() - 1, 2, value);
@@ -2815,20 +2861,20 @@ public final class FrontHouse {
         private static final int TAG = 0;
         private static final int OF = 1;
         private static final int FIRST = 2;
-        private static final int COUNT = 3;
-        private static final int CHAIN = 4;
-        private static final int ERASED = 5;
-        private static final int BUCKETS = 1024;
-        private static final int DEEPEST = 90;
+        private static final int CHAIN = 3;
+        private static final int TAGS = 16;
+        private static final int BUCKETS = 4096;
 
         private final Tree tree;
-        private final Rows rows = new Rows(6000, 6);
-        private final int[] args = new int[16000];
-        private int argsUsed;
-        private final int[] work = new int[2000];
+        private final Rows rows = new Rows(4096, 4, 127);
+        private final Rows args = new Rows(8192, 1, 127);
+        private final int[] work = new int[200];
         private int workTop;
         private final int[] heads = new int[BUCKETS];
         private final int[] above = new int[ALL_KINDS * ALL_KINDS];
+        private final Rows images = new Rows(4096, 2, 31);
+        private final int[] open = new int[TAPE + 2];
+        private int rounds;
         private int firstA;
         private int countA;
         private int argsA;
@@ -2842,7 +2888,9 @@ public final class FrontHouse {
 
         void clear() {
             rows.cut(0);
-            argsUsed = 0;
+            args.cut(0);
+            images.cut(0);
+            rounds = 0;
             workTop = 0;
             for (int i = 0; i < BUCKETS; i++) {
                 heads[i] = 0;
@@ -2858,45 +2906,38 @@ public final class FrontHouse {
 
         // ---- making types
 
+        /** The type with this tag that has as arguments what was pushed behind a mark: it is made if it isn't there. */
         private int find(int tag, int of, int from) {
             int h = tag * 31 + of;
             for (int i = from; i < workTop; i++) {
                 h = h * 31 + work[i];
             }
-            h = (h ^ (h >>> 10)) & (BUCKETS - 1);
+            h = (h ^ (h >>> 12)) & (BUCKETS - 1);
+            int many = workTop - from;
+            int key = tag + TAGS * many;
             for (int t = heads[h]; t != 0; t = rows.get(t, CHAIN)) {
-                if (rows.get(t, TAG) == tag && rows.get(t, OF) == of && sameArgs(t, from)) {
+                if (rows.get(t, OF) == of && rows.get(t, TAG) == key && sameArgs(t, from)) {
                     workTop = from;
                     return t;
                 }
             }
+            int first = keepList(from);
             int t = rows.add();
-            if (t < 0 || argsUsed + workTop - from > args.length) {
-                rows.cut(rows.size() - (t < 0 ? 0 : 1));
-                workTop = from;
-                return tag == TAG_KIND && of == OBJECT ? 0 : objectType();
+            if (t < 0) {
+                return 0;
             }
-            rows.put(t, TAG, tag);
+            rows.put(t, TAG, key);
             rows.put(t, OF, of);
-            rows.put(t, FIRST, argsUsed);
-            rows.put(t, COUNT, workTop - from);
+            rows.put(t, FIRST, first);
             rows.put(t, CHAIN, heads[h]);
             heads[h] = t;
-            for (int i = from; i < workTop; i++) {
-                args[argsUsed] = work[i];
-                argsUsed++;
-            }
-            workTop = from;
             return t;
         }
 
         private boolean sameArgs(int t, int from) {
-            if (rows.get(t, COUNT) != workTop - from) {
-                return false;
-            }
             int first = rows.get(t, FIRST);
             for (int i = from; i < workTop; i++) {
-                if (args[first + i - from] != work[i]) {
+                if (args.get(first + i - from, 0) != work[i]) {
                     return false;
                 }
             }
@@ -2913,7 +2954,6 @@ public final class FrontHouse {
                 workTop++;
             }
         }
-
 
         /** A kind with the arguments that were pushed behind the mark. */
         int kindWith(int k, int mark) {
@@ -2946,23 +2986,22 @@ public final class FrontHouse {
 
         /** Keeps a list of types that were pushed behind the mark; where it begins. */
         int keepList(int mark) {
-            int base = argsUsed;
-            for (int i = mark; i < workTop && argsUsed < args.length; i++) {
-                args[argsUsed] = work[i];
-                argsUsed++;
+            int base = args.size();
+            for (int i = mark; i < workTop; i++) {
+                args.put(args.add(), 0, work[i]);
             }
             workTop = mark;
             return base;
         }
 
         int listed(int i) {
-            return i >= 0 && i < argsUsed ? args[i] : 0;
+            return args.get(i, 0);
         }
 
         // ---- looking at types
 
         int tag(int t) {
-            return t == 0 ? -1 : rows.get(t, TAG);
+            return t <= NULL ? t - 1 : rows.get(t, TAG) % TAGS;
         }
 
         int of(int t) {
@@ -2970,7 +3009,7 @@ public final class FrontHouse {
         }
 
         int argCount(int t) {
-            return rows.get(t, COUNT);
+            return t <= NULL ? 0 : rows.get(t, TAG) / TAGS;
         }
 
         int argBase(int t) {
@@ -3003,7 +3042,7 @@ public final class FrontHouse {
 
         int dims(int t) {
             int many = 0;
-            for (int i = t; isArray(i) && many < 100; i = of(i)) {
+            for (int i = t; isArray(i) && many < MANY; i = of(i)) {
                 many++;
             }
             return many;
@@ -3011,7 +3050,7 @@ public final class FrontHouse {
 
         int behindDims(int t) {
             int i = t;
-            for (int many = 0; isArray(i) && many < 100; many++) {
+            for (int many = 0; isArray(i) && many < MANY; many++) {
                 i = of(i);
             }
             return i;
@@ -3078,18 +3117,8 @@ public final class FrontHouse {
             if (t <= NULL) {
                 return t;
             }
-            int known = rows.get(t, ERASED);
-            if (known != 0) {
-                return known;
-            }
-            int dims = dims(t);
             int b = boundOf(behindDims(t));
-            int more = dims(b);
-            b = boundOf(behindDims(b));
-            int e = isKind(b) ? kindType(of(b)) : b;
-            e = arrayOf(e, dims + more);
-            rows.put(t, ERASED, e);
-            return e;
+            return arrayOf(isKind(b) ? kindType(of(b)) : b, dims(t));
         }
 
         // ---- putting types for vars
@@ -3119,41 +3148,76 @@ public final class FrontHouse {
             }
         }
 
+        /** The type with what its vars stand for; each part of it is looked at once. */
         int put(int t) {
-            return countA == 0 && countB == 0 ? t : putAt(t, 0);
-        }
-
-        private int putAt(int t, int depth) {
-            if (depth > DEEPEST) {
+            if (countA == 0 && countB == 0) {
                 return t;
             }
-            switch (tag(t)) {
-                case TAG_VAR: {
-                    int v = of(t);
-                    if (v >= firstA && v < firstA + countA) {
-                        return listed(argsA + v - firstA);
-                    }
-                    if (v >= firstB && v < firstB + countB) {
-                        return listed(argsB + v - firstB);
-                    }
-                    return t;
+            rounds++;
+            int top = 0;
+            open[0] = t;
+            for (int i = 0; i < MANY && top >= 0 && top < open.length - 1; i++) {
+                int part = unknownPart(open[top]);
+                if (part != 0) {
+                    top++;
+                    open[top] = part;
+                } else {
+                    setImage(open[top], putOne(open[top]));
+                    top--;
                 }
-                case TAG_ARRAY:
-                    return arrayOf(putAt(of(t), depth + 1));
-                case TAG_KIND: {
-                    if (argCount(t) == 0) {
-                        return t;
-                    }
-                    int mark = workMark();
-                    for (int i = 0; i < argCount(t); i++) {
-                        int a = putAt(arg(t, i), depth + 1);
-                        pushWork(a);
-                    }
-                    return kindWith(of(t), mark);
-                }
-                default:
-                    return t;
             }
+            return image(t);
+        }
+
+        /** What a type became in this round, 0 if it isn't known yet. */
+        private int image(int t) {
+            return images.get(t, 0) == rounds ? images.get(t, 1) : 0;
+        }
+
+        private void setImage(int t, int made) {
+            for (int i = images.size(); i <= t; i++) {
+                images.add();
+            }
+            images.put(t, 0, rounds);
+            images.put(t, 1, made);
+        }
+
+        /** The first part of a type that has no image yet, or 0. */
+        private int unknownPart(int t) {
+            if (isArray(t)) {
+                return image(of(t)) == 0 ? of(t) : 0;
+            }
+            for (int i = 0; i < argCount(t); i++) {
+                if (image(arg(t, i)) == 0) {
+                    return arg(t, i);
+                }
+            }
+            return 0;
+        }
+
+        /** A type whose parts have their images. */
+        private int putOne(int t) {
+            if (isVar(t)) {
+                int v = of(t);
+                if (v >= firstA && v < firstA + countA) {
+                    return listed(argsA + v - firstA);
+                }
+                if (v >= firstB && v < firstB + countB) {
+                    return listed(argsB + v - firstB);
+                }
+                return t;
+            }
+            if (isArray(t)) {
+                return arrayOf(image(of(t)));
+            }
+            if (argCount(t) == 0) {
+                return t;
+            }
+            int mark = workMark();
+            for (int i = 0; i < argCount(t); i++) {
+                pushWork(image(arg(t, i)));
+            }
+            return kindWith(of(t), mark);
         }
 
         // ---- what is below what
@@ -3234,7 +3298,7 @@ public final class FrontHouse {
         private boolean subtypeRow(int from, int to) {
             int a = from;
             int b = to;
-            for (int i = 0; i < 100 && isArray(a) && isArray(b); i++) {
+            for (int i = 0; i < MANY && isArray(a) && isArray(b); i++) {
                 a = of(a);
                 b = of(b);
             }
@@ -3326,38 +3390,43 @@ public final class FrontHouse {
                 if (p != 0) {
                     return p == to ? 5 : widens(p, to) ? 6 : -1;
                 }
-                return from != NULL && narrows(from, box(to), 0) ? 12 : -1;
+                return from != NULL && narrows(from, box(to)) ? 12 : -1;
             }
             if (subtype(from, to)) {
                 return 7;
             }
-            if (from == NULL || !narrows(from, to, 0)) {
+            if (from == NULL || !narrows(from, to)) {
                 return -1;
             }
             return unchecked(from, to) ? 10 : 9;
         }
 
-        /** A narrowing reference conversion [5.1.6.1]. */
-        private boolean narrows(int from, int to, int depth) {
-            if (depth > 30 || apart(from, to)) {
+        /** A narrowing reference conversion [5.1.6.1]; of arrays it is asked of what is in both. */
+        private boolean narrows(int from, int to) {
+            int a = from;
+            int b = to;
+            for (int i = 0; i < MANY && isArray(a) && isArray(b); i++) {
+                a = of(a);
+                b = of(b);
+            }
+            return isRef(a) && isRef(b) && narrowsOne(a, b, 0);
+        }
+
+        private boolean narrowsOne(int from, int to, int depth) {
+            if (depth > 20 || apart(from, to)) {
                 return false;
             }
             if (isVar(to)) {
                 int b = bound(to);
-                if (subtype(from, b) || narrows(from, b, depth + 1)) {
+                if (subtype(from, b) || narrowsOne(from, b, depth + 1)) {
                     return true;
                 }
             }
             if (isVar(from)) {
-                return narrows(bound(from), to, depth + 1);
+                return narrowsOne(bound(from), to, depth + 1);
             }
             if (isArray(to)) {
-                if (!isArray(from)) {
-                    return isKind(from) && of(from) == OBJECT;
-                }
-                int a = of(from);
-                int b = of(to);
-                return isRef(a) && isRef(b) && narrows(a, b, depth + 1);
+                return isKind(from) && of(from) == OBJECT;
             }
             return isKind(from) && isKind(to) && !disjoint(of(from), of(to));
         }
@@ -3413,7 +3482,7 @@ public final class FrontHouse {
         private boolean unchecked(int from, int to) {
             int a = from;
             int b = to;
-            for (int i = 0; i < 100 && isArray(b); i++) {
+            for (int i = 0; i < MANY && isArray(b); i++) {
                 if (!isArray(a)) {
                     return !reifiable(b);
                 }
@@ -3434,27 +3503,29 @@ public final class FrontHouse {
         private boolean settled(int b, int a) {
             int up = aboveOf(b, a);
             for (int i = 0; i < tree.kinds.get(b, K_VARS); i++) {
-                if (!mentions(up, tree.kinds.get(b, K_VAR0) + i, 0)) {
+                if (!mentions(up, varType(tree.kinds.get(b, K_VAR0) + i))) {
                     return false;
                 }
             }
             return true;
         }
 
-        private boolean mentions(int t, int v, int depth) {
-            if (isVar(t)) {
-                return of(t) == v;
-            }
-            int b = behindDims(t);
-            if (isVar(b)) {
-                return of(b) == v;
-            }
-            for (int i = 0; i < argCount(b) && depth < DEEPEST; i++) {
-                if (mentions(arg(b, i), v, depth + 1)) {
-                    return true;
+        /** Whether a var stands somewhere in a type; each part of it is looked at once. */
+        private boolean mentions(int t, int v) {
+            rounds++;
+            int top = 0;
+            open[0] = t;
+            for (int i = 0; i < MANY && top >= 0 && top < open.length - 1; i++) {
+                int part = unknownPart(open[top]);
+                if (part != 0) {
+                    top++;
+                    open[top] = part;
+                } else {
+                    setImage(open[top], NULL);
+                    top--;
                 }
             }
-            return false;
+            return image(v) != 0;
         }
     }
 
@@ -3625,7 +3696,8 @@ public final class FrontHouse {
                 return;
             }
             int up = types.of(t);
-            boolean wrong = !types.isKind(t) || tree.isInterface(up) != face || tree.kinds.has(up, K_FLAGS, FINAL);
+            boolean last = !face && tree.kinds.has(up, K_FLAGS, FINAL);
+            boolean wrong = !types.isKind(t) || tree.isInterface(up) != face || last;
             if (wrong || up == k || reaches(up, k)) {
                 tree.report(33, tree.node(n, PL));
             }
@@ -3912,8 +3984,8 @@ public final class FrontHouse {
 
         // ---- signatures
 
-        int viewOf(int m, int k) {
-            return types.asSuper(tree.kinds.get(k, K_OWN), tree.methods.get(m, M_KIND));
+        private int viewOf(int m, int k) {
+            return types.aboveOf(k, tree.methods.get(m, M_KIND));
         }
 
         /** A type that a method tells, as its kind's view and a list for its vars make it. */
@@ -5788,11 +5860,11 @@ public final class FrontHouse {
         private static final int IN_METHOD = 0;
         private static final int IN_OBJECT = 1;
         private static final int IN_START = 2;
+        private static final int THROWN_BITS = ALL_KINDS + 8;
 
         private final Tree tree;
         private final Types types;
         private final Heads heads;
-        private final Rows thrown = new Rows(2000, 2);
         private final int[] tries = new int[64];
         private int tryCount;
         private int home;
@@ -5842,7 +5914,6 @@ public final class FrontHouse {
             spell = m;
             fixed = still;
             tryCount = 0;
-            thrown.cut(0);
         }
 
         private void pushTry(int n) {
@@ -6076,10 +6147,10 @@ public final class FrontHouse {
         private void throwAgain(int c, int place) {
             int n = tree.node(c, CD);
             int t = caught(c);
-            int all = thrown.size();
-            for (int i = 0; i < all; i++) {
-                int e = thrown.get(i, 1);
-                if (thrown.get(i, 0) == n && !takenAhead(n, c, e)) {
+            long all = tree.nodes.wide(n, SY);
+            for (int bit = 0; bit < THROWN_BITS; bit++) {
+                int e = (all >> bit & 1) == 1 ? thrownType(bit) : 0;
+                if (e != 0 && !takenAhead(n, c, e)) {
                     if (types.subtype(e, t)) {
                         throwOne(e, place);
                     } else if (types.subtype(t, e)) {
@@ -6127,15 +6198,34 @@ public final class FrontHouse {
             return all;
         }
 
+        /** What a block can throw stands as bits in SY and TG of its try. */
         private void note(int n, int t) {
-            for (int i = 0; i < thrown.size(); i++) {
-                if (thrown.get(i, 0) == n && thrown.get(i, 1) == t) {
-                    return;
-                }
+            int bit = thrownBit(t);
+            if (bit >= 0) {
+                tree.nodes.putWide(n, SY, tree.nodes.wide(n, SY) | 1L << bit);
             }
-            int row = thrown.add();
-            thrown.put(row, 0, n);
-            thrown.put(row, 1, t);
+        }
+
+        /** What is thrown is a kind, or a var of the kind or the method whose body it is. */
+        private int thrownBit(int t) {
+            int i = types.of(t);
+            if (types.isKind(t)) {
+                return i;
+            }
+            int first = tree.kinds.get(home, K_VAR0);
+            if (i >= first && i < first + tree.kinds.get(home, K_VARS)) {
+                return ALL_KINDS + i - first;
+            }
+            first = tree.methods.get(spell, M_VAR0);
+            return i >= first && i < first + tree.methods.get(spell, M_VARS) ? ALL_KINDS + 4 + i - first : -1;
+        }
+
+        private int thrownType(int bit) {
+            if (bit < ALL_KINDS) {
+                return types.kindType(bit);
+            }
+            int i = bit - ALL_KINDS;
+            return types.varType(i < 4 ? tree.kinds.get(home, K_VAR0) + i : tree.methods.get(spell, M_VAR0) + i - 4);
         }
 
         private boolean tells(int m, int t) {
@@ -7072,7 +7162,7 @@ public final class FrontHouse {
             int e = types.erasure(t);
             int b = types.behindDims(e);
             int base = types.isKind(b) ? 8 + types.of(b) : b;
-            return base * 16 + Math.min(15, types.dims(e));
+            return (base << DIM_BITS) + Math.min(DIM_MOST, types.dims(e));
         }
 
         private void layMain() {
@@ -8135,10 +8225,10 @@ public final class FrontHouse {
 
         /** Whether a thing of one shape is one of another shape, too. */
         private boolean isOf(int shape, int wanted) {
-            int dims = shape & 15;
-            int more = wanted & 15;
-            int from = shape >> 4;
-            int to = wanted >> 4;
+            int dims = shape & DIM_MOST;
+            int more = wanted & DIM_MOST;
+            int from = shape >> DIM_BITS;
+            int to = wanted >> DIM_BITS;
             if (shape == wanted) {
                 return true;
             }
@@ -8181,7 +8271,7 @@ public final class FrontHouse {
                 }
                 case O_NEW: {
                     int k = word();
-                    int a = make(told.shapes.get(k, 0), (8 + k) * 16);
+                    int a = make(told.shapes.get(k, 0), (8 + k) << DIM_BITS);
                     push(a);
                     break;
                 }
@@ -8259,7 +8349,7 @@ public final class FrontHouse {
             int at = Math.min(a + 2 + (int) index, cells.length - 1);
             if (op == O_ASTORE) {
                 int part = shapes[a] - 1;
-                boolean thing = (part & 15) > 0 || part >> 4 >= 8;
+                boolean thing = (part & DIM_MOST) > 0 || part >> DIM_BITS >= 8;
                 int b = thing ? address(v) : 0;
                 if (b != 0 && !isOf(shapes[b], part)) {
                     raise(STORE);
@@ -8321,7 +8411,7 @@ public final class FrontHouse {
 
         /** Boxes of one class with one value are one thing. */
         private void box(int prim, long v) {
-            int shape = (8 + BOOLEAN_BOX + prim - BOOLEAN) * 16;
+            int shape = (8 + BOOLEAN_BOX + prim - BOOLEAN) << DIM_BITS;
             int h = ((int) (v ^ (v >>> 32)) * 31 + prim) & (BUCKETS - 1);
             if (boxHeads[BUCKETS + h] != runs) {
                 boxHeads[BUCKETS + h] = runs;
@@ -8348,7 +8438,7 @@ public final class FrontHouse {
             long v = pop();
             int a = address(v);
             if (kind == 4) {
-                v = a == 0 ? 0 : (shapes[a] & 15) > 0 ? 99 : 100 + told.shapes.get((shapes[a] >> 4) - 8, 2);
+                v = a == 0 ? 0 : (shapes[a] & DIM_MOST) > 0 ? 99 : 100 + told.shapes.get((shapes[a] >> DIM_BITS) - 8, 2);
             }
             int row = outs.add();
             outs.put(row, 0, kind);
@@ -8394,7 +8484,7 @@ public final class FrontHouse {
                 raise(NULLPOINTER);
                 return;
             }
-            int k = (shapes[a] >> 4) - 8 - BUILT_INS;
+            int k = (shapes[a] >> DIM_BITS) - 8 - BUILT_INS;
             open(told.serving.get(k, m - BUILT_METHODS) + BUILT_METHODS);
         }
 
@@ -8407,7 +8497,7 @@ public final class FrontHouse {
             }
             for (int i = 0; i < many; i++) {
                 int wanted = told.formalAt(told.bodies.get(m, 3) + i);
-                boolean thing = (wanted & 15) > 0 || wanted >> 4 >= 8;
+                boolean thing = (wanted & DIM_MOST) > 0 || wanted >> DIM_BITS >= 8;
                 int a = thing ? address(peek(many - 1 - i)) : 0;
                 if (a != 0 && !isOf(shapes[a], wanted)) {
                     raise(CASTING);
@@ -8435,11 +8525,11 @@ public final class FrontHouse {
         // ---- what is thrown
 
         private int kindOf(int a) {
-            return (shapes[a] >> 4) - 8;
+            return (shapes[a] >> DIM_BITS) - 8;
         }
 
         private void raise(int kind) {
-            int a = make(1, (8 + kind) * 16);
+            int a = make(1, (8 + kind) << DIM_BITS);
             if (a != 0) {
                 unwind(a);
             }
@@ -8467,7 +8557,7 @@ public final class FrontHouse {
                 if (owner < 0) {
                     states[Math.max(0, Math.min(ALL_KINDS - 1, -1 - owner))] = 3;
                     if (told.below.get(kindOf(a), ERROR) == 0) {
-                        a = make(1, (8 + INITIALIZER) * 16);
+                        a = make(1, (8 + INITIALIZER) << DIM_BITS);
                         if (a == 0) {
                             return;
                         }

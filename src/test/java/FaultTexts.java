@@ -57,7 +57,10 @@ public final class FaultTexts {
         due(1, "class A { char c = `'\\u00'; }");
         fine("class A { /* \\\\u00 */ }");
         due(1, "class A { /* `\u0007 */ }");
-        due(1, "class A { char c = '`\u0007'; }");
+        due(1, "class A { char c = `'\u0007'; }");
+        due(1, "class A { char c = `'a\u0007'; }");
+        due(1, "class A { char c = `'\\\u0007'; }");
+        due(1, "class A { `'\u00b14");
         due(1, "class A { /* `");
         due(1, "class A { // x`");
         fine("class A { } // x");
@@ -245,6 +248,8 @@ public final class FaultTexts {
         due(34, "class A { public `public int x; }");
         due(34, "class A { public `private int x; }");
         due(34, "`private class A { }");
+        due(34, "class A implements I { } `final interface I { }");
+        due(34, "interface A extends I { } `final interface I { }");
         due(34, "abstract `final class A { }");
         due(34, "`final interface A { }");
         due(34, "class A { `abstract int x; }");
