@@ -2863,6 +2863,7 @@ public final class FrontHouse {
         private static final int FIRST = 2;
         private static final int CHAIN = 3;
         private static final int TAGS = 16;
+        private static final int WAYS = 100000;
         private static final int BUCKETS = 4096;
 
         private final Tree tree;
@@ -2875,6 +2876,8 @@ public final class FrontHouse {
         private final Rows images = new Rows(4096, 2, 31);
         private final int[] open = new int[TAPE + 2];
         private int rounds;
+        private final int[] ways = new int[ALL_KINDS];
+        private final int[] turns = new int[ALL_KINDS];
         private int firstA;
         private int countA;
         private int argsA;
@@ -3292,7 +3295,44 @@ public final class FrontHouse {
             if (argCount(to) == 0 && tree.kinds.get(of(to), K_VARS) > 0) {
                 return kindBelow(of(low), of(to));
             }
-            return asSuper(low, of(to)) == to;
+            return asSuper(low, of(to)) == to || (tree.kinds.get(of(low), K_TWICE) == 1 && reachesBesides(low, to));
+        }
+
+        /** Of a kind that has one interface by two lists of arguments: whether one of its ways leads there. */
+        private boolean reachesBesides(int low, int to) {
+            int top = 0;
+            ways[0] = low;
+            turns[0] = 0;
+            for (int i = 0; i < WAYS && top >= 0; i++) {
+                if (ways[top] == to) {
+                    return true;
+                }
+                int next = superOf(ways[top], turns[top]);
+                turns[top]++;
+                if (next == 0) {
+                    top--;
+                } else if (kindBelow(of(next), of(to)) && top + 1 < ways.length) {
+                    top++;
+                    ways[top] = next;
+                    turns[top] = 0;
+                }
+            }
+            return false;
+        }
+
+        /** What a type hangs from itself, one after the other; 0 behind the last. */
+        private int superOf(int t, int i) {
+            int ext = tree.kinds.get(of(t), K_EXT);
+            int n = ext;
+            if (ext == 0 || i > 0) {
+                n = tree.kinds.get(of(t), K_IMPL);
+                for (int j = ext == 0 ? 0 : 1; j < i && n != 0; j++) {
+                    n = tree.node(n, NX);
+                }
+            }
+            bindNone();
+            bindKind(t);
+            return n == 0 ? 0 : put(tree.node(n, TY));
         }
 
         private boolean subtypeRow(int from, int to) {
