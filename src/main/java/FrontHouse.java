@@ -2863,7 +2863,7 @@ public final class FrontHouse {
         private static final int FIRST = 2;
         private static final int CHAIN = 3;
         private static final int TAGS = 16;
-        private static final int WAYS = 100000;
+        private static final int WAYS = 30000;
         private static final int BUCKETS = 4096;
 
         private final Tree tree;

@@ -285,6 +285,8 @@ public final class FaultTexts {
         fine("class A<T> { void f(T t) { } } class B<U> extends A<U> { void f(Object o) { } }");
         fine("class A { <T> void f(T t) { } } class B extends A { void f(Object o) { } }");
         due(36, "class A { void f(Object o) { } } class B extends A { <T> void `f(T t) { } }");
+        due(37, "interface I<T> { } interface J extends I<Byte> { } class P<T extends I<Byte>> { } class Q { P<C> p; } class `C implements I<Long>, J { }");
+        due(32, "interface I<T> { } interface J extends I<Byte> { } class P<T extends I<In>> { } class Q { P<`C> p; } class C implements I<Long>, J { }");
         due(37, "interface I { void f(); } class `B implements I { }");
         due(37, "abstract class A { abstract void f(); } class `B extends A { }");
         fine("interface I { void f(); } class A { public void f() { } } class B extends A implements I { }");
