@@ -2863,7 +2863,6 @@ public final class FrontHouse {
         private static final int FIRST = 2;
         private static final int CHAIN = 3;
         private static final int TAGS = 16;
-        private static final int WAYS = 30000;
         private static final int BUCKETS = 4096;
 
         private final Tree tree;
@@ -2876,8 +2875,7 @@ public final class FrontHouse {
         private final Rows images = new Rows(4096, 2, 31);
         private final int[] open = new int[TAPE + 2];
         private int rounds;
-        private final int[] ways = new int[ALL_KINDS];
-        private final int[] turns = new int[ALL_KINDS];
+        private final Rows wants = new Rows(128, 5, 63);
         private int firstA;
         private int countA;
         private int argsA;
@@ -3298,41 +3296,110 @@ public final class FrontHouse {
             return asSuper(low, of(to)) == to || (tree.kinds.get(of(low), K_TWICE) == 1 && reachesBesides(low, to));
         }
 
-        /** Of a kind that has one interface by two lists of arguments: whether one of its ways leads there. */
+        /**
+         * Of a kind that has one interface by two lists of arguments: whether one of its ways leads there.
+         * They are gone from above, so that each kind on them is met with parts of the goal's arguments alone.
+         */
         private boolean reachesBesides(int low, int to) {
-            int top = 0;
-            ways[0] = low;
-            turns[0] = 0;
-            for (int i = 0; i < WAYS && top >= 0; i++) {
-                if (ways[top] == to) {
+            wants.cut(0);
+            wants.put(wants.add(), 0, of(to));
+            for (int i = 0; i < argCount(to); i++) {
+                wants.put(0, 1 + i, arg(to, i));
+            }
+            for (int w = 0; w < MANY && w < wants.size(); w++) {
+                if (wants.get(w, 0) == of(low) && meets(low, w)) {
                     return true;
                 }
-                int next = superOf(ways[top], turns[top]);
-                turns[top]++;
-                if (next == 0) {
-                    top--;
-                } else if (kindBelow(of(next), of(to)) && top + 1 < ways.length) {
-                    top++;
-                    ways[top] = next;
-                    turns[top] = 0;
+                for (int k = BUILT_INS; k < tree.kinds.size(); k++) {
+                    if (kindBelow(of(low), k)) {
+                        goDown(k, tree.kinds.get(k, K_EXT), w);
+                        goDown(k, tree.kinds.get(k, K_IMPL), w);
+                    }
                 }
             }
             return false;
         }
 
-        /** What a type hangs from itself, one after the other; 0 behind the last. */
-        private int superOf(int t, int i) {
-            int ext = tree.kinds.get(of(t), K_EXT);
-            int n = ext;
-            if (ext == 0 || i > 0) {
-                n = tree.kinds.get(of(t), K_IMPL);
-                for (int j = ext == 0 ? 0 : 1; j < i && n != 0; j++) {
-                    n = tree.node(n, NX);
+        /** Whether a type has the arguments that are wanted (0: any). */
+        private boolean meets(int t, int w) {
+            for (int i = 0; i < argCount(t); i++) {
+                int wanted = wants.get(w, 1 + i);
+                if (wanted != 0 && wanted != arg(t, i)) {
+                    return false;
                 }
             }
-            bindNone();
-            bindKind(t);
-            return n == 0 ? 0 : put(tree.node(n, TY));
+            return true;
+        }
+
+        /** What is wanted of kind k, that hangs from a list's types, if what row w wants of one of them is to hold. */
+        private void goDown(int k, int list, int w) {
+            for (int n = list; n != 0; n = tree.node(n, NX)) {
+                int up = tree.node(n, TY);
+                if (of(up) == wants.get(w, 0)) {
+                    int row = wants.add();
+                    wants.put(row, 0, k);
+                    boolean fits = true;
+                    for (int i = 0; i < argCount(up) && fits; i++) {
+                        int wanted = wants.get(w, 1 + i);
+                        fits = wanted == 0 || matches(arg(up, i), wanted, row);
+                    }
+                    if (!fits || wantedBefore(row)) {
+                        wants.cut(row);
+                    }
+                }
+            }
+        }
+
+        /** Whether a type as a kind tells it becomes another one; what its vars must be then goes into the row. */
+        private boolean matches(int pattern, int value, int row) {
+            int first = tree.kinds.get(wants.get(row, 0), K_VAR0);
+            int top = 0;
+            open[0] = pattern;
+            open[1] = value;
+            for (int i = 0; i < MANY && top >= 0; i++) {
+                int p = open[top];
+                int v = open[top + 1];
+                top -= 2;
+                if (isVar(p)) {
+                    int known = wants.get(row, 1 + of(p) - first);
+                    if (known != 0 && known != v) {
+                        return false;
+                    }
+                    wants.put(row, 1 + of(p) - first, v);
+                } else if (isArray(p) && isArray(v)) {
+                    top = pushPair(top, of(p), of(v));
+                } else if (tag(p) != tag(v) || of(p) != of(v) || argCount(p) != argCount(v)) {
+                    return false;
+                } else {
+                    for (int j = 0; j < argCount(p); j++) {
+                        top = pushPair(top, arg(p, j), arg(v, j));
+                    }
+                }
+            }
+            return true;
+        }
+
+        private int pushPair(int top, int p, int v) {
+            int next = top + 2;
+            if (next + 1 >= open.length) {
+                return top;
+            }
+            open[next] = p;
+            open[next + 1] = v;
+            return next;
+        }
+
+        private boolean wantedBefore(int row) {
+            for (int w = 0; w < row; w++) {
+                boolean same = true;
+                for (int i = 0; i <= 4 && same; i++) {
+                    same = wants.get(w, i) == wants.get(row, i);
+                }
+                if (same) {
+                    return true;
+                }
+            }
+            return false;
         }
 
         private boolean subtypeRow(int from, int to) {

@@ -150,6 +150,21 @@ public final class GreatTexts {
         judge("loops in loops", b + "x9++;}}", 61, b.length());
     }
 
+    /** One interface by very many lists: each that a way leads to counts. */
+    private static void manyWays() {
+        StringBuilder b = new StringBuilder("interface I0<T>{}class P<T>{}class Q<T>{}interface I1<T>extends I0<P<T>>{}");
+        for (int i = 2; i < 17; i++) {
+            b.append("interface I" + i + "<T>extends I" + (i - 1) + "<P<T>>,I" + (i - 2) + "<Q<T>>{}");
+        }
+        String way = "I0<" + times("Q<P<", 4) + times("Q<", 2) + "Byte" + times(">", 10) + ">";
+        String none = "I0<" + times("Q<P<", 4) + times("Q<", 3) + "Byte" + times(">", 11) + ">";
+        String tail = "class D{B<C>x;}class C implements I16<Byte>{}";
+        String text = b + "class B<T extends " + way + ">{}" + tail;
+        judge("a way among many", text, 37, text.indexOf("I2<T>"));
+        text = b + "class B<T extends " + none + ">{}" + tail;
+        judge("no way among many", text, 32, text.indexOf("C>x"));
+    }
+
     /** Elements that need many words of code each. */
     private static void longCode() {
         StringBuilder b = new StringBuilder("class P<T>{T a;}class Main extends P<Integer>{static int s=0;static void main(){Main x=new Main();x.a=0;x.m();"
@@ -182,6 +197,7 @@ public final class GreatTexts {
         greatArrays();
         manyThrown();
         deepLoops();
+        manyWays();
         longCode();
         manyReturns();
         if (wrong > 0) {
