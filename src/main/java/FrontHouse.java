@@ -418,10 +418,6 @@ public final class FrontHouse {
         private final Rows[] parts;
         private int used;
 
-        Rows(int limit, int width) {
-            this(limit, width, 0);
-        }
-
         Rows(int limit, int width, int parts) {
             this.limit = Math.max(1, limit);
             this.width = Math.max(1, width);
@@ -463,7 +459,7 @@ public final class FrontHouse {
                 return -1;
             }
             if (parts[p] == null) {
-                parts[p] = new Rows(limit, width);
+                parts[p] = new Rows(limit, width, 0);
             }
             parts[p].add();
             used++;
@@ -534,8 +530,8 @@ public final class FrontHouse {
         private final int[] spot = new int[TAPE + 1];
         private int signs;
         private int end;
-        private final Rows tokens = new Rows(TAPE + 2, 6);
-        private final Rows names = new Rows(1700, 3);
+        private final Rows tokens = new Rows(TAPE + 2, 6, 0);
+        private final Rows names = new Rows(1700, 3, 0);
         private final int[] letters = new int[TAPE + 800];
         private int lettersUsed;
         private final int[] heads = new int[BUCKETS];
@@ -1127,13 +1123,13 @@ public final class FrontHouse {
 
     /** The tables of the text that is being judged, and the least fault that was found in them. */
     private static final class Tree {
-        private final Rows nodes = new Rows(4200, NODE_WIDTH);
-        private final Rows kinds = new Rows(ALL_KINDS, KIND_WIDTH);
-        private final Rows methods = new Rows(170, METHOD_WIDTH);
-        private final Rows fields = new Rows(121, FIELD_WIDTH);
-        private final Rows vars = new Rows(800, VAR_WIDTH);
-        private final Rows scopes = new Rows(200, SCOPE_WIDTH);
-        private final Rows locals = new Rows(1600, LOCAL_WIDTH);
+        private final Rows nodes = new Rows(4200, NODE_WIDTH, 0);
+        private final Rows kinds = new Rows(ALL_KINDS, KIND_WIDTH, 0);
+        private final Rows methods = new Rows(170, METHOD_WIDTH, 0);
+        private final Rows fields = new Rows(121, FIELD_WIDTH, 0);
+        private final Rows vars = new Rows(800, VAR_WIDTH, 0);
+        private final Rows scopes = new Rows(200, SCOPE_WIDTH, 0);
+        private final Rows locals = new Rows(1600, LOCAL_WIDTH, 0);
         private final int[] atPlace = new int[TAPE + 1];
         private int worst;
         private int spot;
@@ -2863,6 +2859,7 @@ public final class FrontHouse {
         private static final int FIRST = 2;
         private static final int CHAIN = 3;
         private static final int TAGS = 16;
+        private static final int KEPT = 1024;
         private static final int BUCKETS = 4096;
 
         private final Tree tree;
@@ -2876,6 +2873,8 @@ public final class FrontHouse {
         private final int[] open = new int[TAPE + 2];
         private int rounds;
         private final Rows wants = new Rows(128, 5, 63);
+        private final int[] keptKeys = new int[KEPT];
+        private final int[] keptTypes = new int[KEPT];
         private int firstA;
         private int countA;
         private int argsA;
@@ -2895,6 +2894,9 @@ public final class FrontHouse {
             workTop = 0;
             for (int i = 0; i < BUCKETS; i++) {
                 heads[i] = 0;
+            }
+            for (int i = 0; i < KEPT; i++) {
+                keptKeys[i] = 0;
             }
             for (int i = 0; i < above.length; i++) {
                 above[i] = 0;
@@ -3238,7 +3240,7 @@ public final class FrontHouse {
             return j == OBJECT || aboveOf(k, j) != 0;
         }
 
-        /** The type of kind k that this type is below of, or 0. It binds anew. */
+        /** The type of kind k that this type is below of, or 0. It may bind anew. */
         int asSuper(int t, int k) {
             int b = boundOf(t);
             if (k == OBJECT && isRef(b)) {
@@ -3254,9 +3256,20 @@ public final class FrontHouse {
             if (argCount(b) == 0 && tree.kinds.get(of(b), K_VARS) > 0) {
                 return erasure(up);
             }
-            countB = 0;
-            bindKind(b);
-            return put(up);
+            return superOf(b, k, up);
+        }
+
+        /** The latest answers are kept, as overloaded methods ask for the same ones again and again. */
+        private int superOf(int b, int k, int up) {
+            int at = (b * 31 + k) & (KEPT - 1);
+            int key = b * ALL_KINDS + k;
+            if (keptKeys[at] != key) {
+                bindNone();
+                bindKind(b);
+                keptTypes[at] = put(up);
+                keptKeys[at] = key;
+            }
+            return keptTypes[at];
         }
 
         boolean subtype(int from, int to) {
@@ -3640,7 +3653,7 @@ public final class FrontHouse {
     private static final class Heads {
         private final Tree tree;
         private final Types types;
-        private final Rows members = new Rows(5400, 1);
+        private final Rows members = new Rows(5400, 1, 0);
         private final int[] order = new int[ALL_KINDS];
         private int ordered;
         private final int[] supers = new int[8];
@@ -7014,21 +7027,21 @@ public final class FrontHouse {
 
     /** What is kept of the text that is taken: what is told of it, and the steps that the machine does. */
     private static final class Told {
-        private final Rows exps = new Rows(TAPE + 1, 8);
-        private final Rows calls = new Rows(1100, 4);
-        private final Rows kinds = new Rows(24, 7);
-        private final Rows methods = new Rows(120, 6);
-        private final Rows serving = new Rows(24, 120);
+        private final Rows exps = new Rows(TAPE + 1, 8, 0);
+        private final Rows calls = new Rows(1100, 4, 0);
+        private final Rows kinds = new Rows(24, 7, 0);
+        private final Rows methods = new Rows(120, 6, 0);
+        private final Rows serving = new Rows(24, 120, 0);
         private final int[] counts = new int[7];
         private final int[] code = new int[30000];
         private int codeUsed;
-        private final Rows traps = new Rows(500, 4);
-        private final Rows bodies = new Rows(170, 6);
+        private final Rows traps = new Rows(500, 4, 0);
+        private final Rows bodies = new Rows(170, 6, 0);
         private final int[] formals = new int[1400];
         private int formalsUsed;
-        private final Rows below = new Rows(ALL_KINDS, ALL_KINDS);
-        private final Rows shapes = new Rows(ALL_KINDS, 3);
-        private final Rows statics = new Rows(121, 2);
+        private final Rows below = new Rows(ALL_KINDS, ALL_KINDS, 0);
+        private final Rows shapes = new Rows(ALL_KINDS, 3, 0);
+        private final Rows statics = new Rows(121, 2, 0);
         private boolean taken;
         private boolean starts;
 
@@ -8082,10 +8095,10 @@ public final class FrontHouse {
         private final int[] boxChain = new int[MOST_CELLS + 2];
         private final int[] boxHeads = new int[BUCKETS * 2];
         private int runs;
-        private final Rows frames = new Rows(MOST_OPEN + 2, 4);
+        private final Rows frames = new Rows(MOST_OPEN + 2, 4, 0);
         private final int[] states = new int[ALL_KINDS];
         private final long[] statics = new long[121];
-        private final Rows outs = new Rows(1000, 3);
+        private final Rows outs = new Rows(1000, 3, 0);
         private final int[] facts = new int[7];
         private final int[] given;
         private int givenCount;
