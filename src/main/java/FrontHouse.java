@@ -1094,7 +1094,8 @@ public final class FrontHouse {
         /** How many > a token begins with that may close type arguments one by one. */
         int closers(int i) {
             switch (kindOf(i)) {
-                case T_GT: return 1;
+                case T_GT:
+                case T_GE: return 1;
                 case T_SHR:
                 case T_SHRA: return 2;
                 case T_USHR:
@@ -1104,7 +1105,13 @@ public final class FrontHouse {
         }
 
         boolean beginsClosing(int i) {
-            return closers(i) > 0 || kindOf(i) == T_GE;
+            return closers(i) > 0;
+        }
+
+        /** Whether a token of > has a = behind them, which is left when they are read. */
+        boolean endsInAssign(int i) {
+            int kind = kindOf(i);
+            return kind == T_GE || kind == T_SHRA || kind == T_USHRA;
         }
 
         /** What is left of a token when so many of its > are read. */
@@ -1114,7 +1121,7 @@ public final class FrontHouse {
                 return kind;
             }
             int left = closers(i) - half;
-            if (kind == T_SHRA || kind == T_USHRA) {
+            if (endsInAssign(i)) {
                 return left == 2 ? T_SHRA : left == 1 ? T_GE : T_ASSIGN;
             }
             return left == 2 ? T_SHR : T_GT;
@@ -1593,8 +1600,7 @@ public final class FrontHouse {
                 return;
             }
             half++;
-            int kind = words.kindOf(at);
-            if (half == all && kind != T_SHRA && kind != T_USHRA) {
+            if (half == all && !words.endsInAssign(at)) {
                 at++;
                 half = 0;
                 tok = words.kindOf(at);
@@ -2050,7 +2056,7 @@ public final class FrontHouse {
                     depth--;
                     args = false;
                     h++;
-                    if (h == words.closers(i) && words.kindOf(i) != T_SHRA && words.kindOf(i) != T_USHRA) {
+                    if (h == words.closers(i) && !words.endsInAssign(i)) {
                         i++;
                         h = 0;
                     }
@@ -2444,11 +2450,10 @@ public final class FrontHouse {
             int base = top;
             int right = readOperand();
             for (int i = 0; i < MANY && power(tok) > 0; i++) {
+                right = reduce(base, right, power(tok));
                 if (tok == T_LT && words.beginsClosing(at + 1)) {
                     refuse();
-                    break;
                 }
-                right = reduce(base, right, power(tok));
                 if (fault != 0) {
                     break;
                 }
@@ -2592,7 +2597,9 @@ public final class FrontHouse {
             int type = readType();
             close(T_RPAREN);
             boolean bare = tree.node(type, OP) != 0 && tree.node(type, CD) == 0;
-            if (!bare && !followsCast(tok)) {
+            if (!bare && (tok == T_QUEST || tok == T_SWITCH)) {
+                refuse();
+            } else if (!bare && !followsCast(tok)) {
                 wrong();
             }
             return type;
@@ -6654,11 +6661,22 @@ public final class FrontHouse {
 
         /** A condition: what is assigned behind it when it is true, and when it is false. */
         private void ask(int n) {
+            long d = da;
+            long u = du;
+            askParts(n);
+            if ((tree.node(n, FL) & CONST) != 0) {
+                boolean yes = tree.node(n, LO) != 0;
+                daTrue = yes ? d : ALL;
+                duTrue = yes ? u : ALL;
+                daFalse = yes ? ALL : d;
+                duFalse = yes ? ALL : u;
+            }
+        }
+
+        private void askParts(int n) {
             int kind = tree.node(n, KD);
             int op = tree.node(n, OP);
-            if ((tree.node(n, FL) & CONST) != 0) {
-                askConstant(n);
-            } else if (kind == E_BIN && op == T_ANDAND) {
+            if (kind == E_BIN && op == T_ANDAND) {
                 ask(tree.node(n, CA));
                 long d = daFalse;
                 long u = duFalse;
@@ -6693,23 +6711,6 @@ public final class FrontHouse {
                 daFalse = da;
                 duFalse = du;
             }
-        }
-
-        private void askConstant(int n) {
-            int kind = tree.node(n, KD);
-            if (kind == E_NAME || kind == E_FIELD) {
-                visit(n);
-            } else {
-                visitParts(n);
-                if (kind == E_COND) {
-                    visit(tree.node(n, CC));
-                }
-            }
-            boolean yes = tree.node(n, LO) != 0;
-            daTrue = yes ? da : ALL;
-            duTrue = yes ? du : ALL;
-            daFalse = yes ? ALL : da;
-            duFalse = yes ? ALL : du;
         }
 
         private void askConditional(int n) {
