@@ -1,50 +1,27 @@
 /** Texts with the fault that each must have; ` stands where its place is (it is no part of the text). */
 public final class FaultTexts {
-    private static int wrong = 0;
-    private static int many = 0;
-
-    static void feed(FrontHouse x, String text) {
-        int[] w = new int[5];
-        for (int i = 0; i < text.length(); i += 20) {
-            for (int j = 0; j < 5; j++) {
-                w[j] = 0;
-                for (int b = 0; b < 4; b++) {
-                    int at = i + j * 4 + b;
-                    w[j] = w[j] << 8 | (at < text.length() ? text.charAt(at) & 255 : 0);
-                }
-            }
-            x.feed(w[0], w[1], w[2], w[3], w[4]);
-        }
-    }
-
     private static void due(int fault, String marked) {
-        many++;
-        int place = marked.indexOf('`');
-        String text = place < 0 ? marked : marked.substring(0, place) + marked.substring(place + 1);
-        FrontHouse x = new FrontHouse();
-        feed(x, text);
-        int got = x.judge(text.length());
-        if (got != fault || x.fault(0) != fault || x.fault(1) != (fault == 0 ? -1 : place)) {
-            wrong++;
-            System.out.println(marked + "\n   is " + got + " at " + x.fault(1) + ", due is " + fault + " at " + place);
-        }
+        House.due(fault, marked);
     }
 
-    /** A statement in a static method. */
     private static void body(int fault, String s) {
-        due(fault, "class A { static int n; static int f(int x) { return x; } static void g() { " + s + " } }");
+        House.body(fault, s);
     }
 
     private static void fine(String text) {
-        due(0, text);
+        House.fine(text);
     }
 
     private static String times(String s, int n) {
-        StringBuilder b = new StringBuilder();
-        for (int i = 0; i < n; i++) {
-            b.append(s);
-        }
-        return b.toString();
+        return House.times(s, n);
+    }
+
+    private static String kinds(int n) {
+        return House.row("class K", " { } ", "", n);
+    }
+
+    private static String names(int n) {
+        return House.row("a", "", ", ", n);
     }
 
     private static void signs() {
@@ -198,22 +175,6 @@ public final class FaultTexts {
         due(3, "class A { void f() { " + times("do ", 22) + "`do ; } }");
         due(3, "class A { void f() { int i; i " + times("= i ", 22) + "`= 1; } }");
         body(3, "A<A, A, A, A, A, A, `A 5;");
-    }
-
-    private static String kinds(int n) {
-        StringBuilder b = new StringBuilder();
-        for (int i = 0; i < n; i++) {
-            b.append("class K").append(i).append(" { } ");
-        }
-        return b.toString();
-    }
-
-    private static String names(int n) {
-        StringBuilder b = new StringBuilder();
-        for (int i = 0; i < n; i++) {
-            b.append(i == 0 ? "a" : ", a").append(i);
-        }
-        return b.toString();
     }
 
     private static void declarations() {
@@ -441,9 +402,6 @@ public final class FaultTexts {
         overrides();
         bodies();
         flow();
-        System.out.println(wrong == 0 ? many + " texts have their faults" : wrong + " of " + many + " texts are not as due");
-        if (wrong != 0) {
-            System.exit(1);
-        }
+        House.end("texts with faults");
     }
 }

@@ -1,48 +1,18 @@
 /** Texts that need much room or many steps: what is due of each is known by how it is made. */
 public final class GreatTexts {
-    private static int wrong = 0;
-    private static int many = 0;
-
     private static String times(String s, int n) {
-        StringBuilder b = new StringBuilder();
-        for (int i = 0; i < n; i++) {
-            b.append(s);
-        }
-        return b.toString();
-    }
-
-    private static void feed(FrontHouse x, String text) {
-        int[] w = new int[5];
-        for (int i = 0; i < text.length(); i += 20) {
-            for (int j = 0; j < 5; j++) {
-                w[j] = 0;
-                for (int b = 0; b < 4; b++) {
-                    int at = i + j * 4 + b;
-                    w[j] = w[j] << 8 | (at < text.length() ? text.charAt(at) & 255 : 0);
-                }
-            }
-            x.feed(w[0], w[1], w[2], w[3], w[4]);
-        }
+        return House.times(s, n);
     }
 
     private static FrontHouse judge(String name, String text, int fault, int place) {
-        many++;
-        FrontHouse x = new FrontHouse();
-        feed(x, text);
-        int got = x.judge(text.length());
-        if (got != fault || x.fault(1) != place) {
-            wrong++;
-            System.out.println(name + " (" + text.length() + ") is " + got + " at " + x.fault(1) + ", due is " + fault + " at " + place);
-        }
+        FrontHouse x = House.judged(text);
+        House.same("fault of " + name, x.fault(0), fault);
+        House.same("place of " + name, x.fault(1), place);
         return x;
     }
 
     private static void due(String name, long got, long want) {
-        many++;
-        if (got != want) {
-            wrong++;
-            System.out.println(name + " is " + got + ", due is " + want);
-        }
+        House.same(name, got, want);
     }
 
     /** A line of parents below A0, each with the type argument that is told by one of its var, T. */
@@ -200,10 +170,6 @@ public final class GreatTexts {
         manyWays();
         longCode();
         manyReturns();
-        if (wrong > 0) {
-            System.out.println(wrong + " of " + many + " are not as due");
-            System.exit(1);
-        }
-        System.out.println(many + " great texts are as due");
+        House.end("great texts");
     }
 }

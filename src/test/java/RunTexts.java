@@ -1,43 +1,23 @@
 /** Texts that run: how each ends, its steps, cells and open bodies, and what it puts out. */
 public final class RunTexts {
-    private static int wrong = 0;
-    private static int many = 0;
-
-    static void feed(FrontHouse x, String text) {
-        for (int i = 0; i < text.length(); i += 20) {
-            int[] w = new int[5];
-            for (int b = 0; b < 20; b++) {
-                int at = i + b;
-                w[b / 4] = w[b / 4] << 8 | (at < text.length() ? text.charAt(at) & 255 : 0);
-            }
-            x.feed(w[0], w[1], w[2], w[3], w[4]);
-        }
-    }
+    private static final int[] ASKED = {0, 1, 2, 3, 5};
 
     /** due: how it ended, kind thrown, steps, cells, most bodies (-9 is not asked); out: kind:number .. */
     private static void due(String text, int steps, int cells, int[] due, String out) {
-        many++;
-        FrontHouse x = new FrontHouse();
+        FrontHouse x = House.taken(text);
         x.give(7);
         x.give(-2);
-        feed(x, text);
-        int fault = x.judge(text.length());
-        int end = x.run(steps, cells);
-        int[] asked = {0, 1, 2, 3, 5};
-        boolean fine = fault == 0 && end == due[0];
-        StringBuilder got = new StringBuilder();
-        for (int i = 0; i < 5; i++) {
-            got.append(x.about(asked[i])).append(' ');
-            fine = fine && (due[i] == -9 || due[i] == x.about(asked[i]));
+        House.same("run of " + text, x.run(steps, cells), due[0]);
+        for (int i = 0; i < ASKED.length; i++) {
+            if (due[i] != -9) {
+                House.same("about(" + ASKED[i] + ") of " + text, x.about(ASKED[i]), due[i]);
+            }
         }
         StringBuilder put = new StringBuilder();
         for (int i = 0; i < x.about(4); i++) {
             put.append(i == 0 ? "" : " ").append(x.out(i, 0)).append(':').append(x.out(i, 1));
         }
-        if (!fine || !put.toString().equals(out)) {
-            wrong++;
-            System.out.println(text + "\n   fault " + fault + " at " + x.fault(1) + " ended " + got + "| " + put + " due " + out);
-        }
+        House.same("what is put by " + text, put.toString(), out);
     }
 
     private static String main(String body) {
@@ -195,9 +175,6 @@ public final class RunTexts {
         values();
         generics();
         starts();
-        System.out.println(wrong == 0 ? many + " texts run as due" : wrong + " of " + many + " texts don't run as due");
-        if (wrong != 0) {
-            System.exit(1);
-        }
+        House.end("texts that run");
     }
 }

@@ -1,37 +1,19 @@
 /** What is told of texts that are taken, and the edges of every call. */
 public final class TellTexts {
-    private static int wrong = 0;
-
     private static void due(String what, long got, long want) {
-        if (got != want) {
-            wrong++;
-            System.out.println(what + " answered " + got + ", due is " + want);
-        }
+        House.same(what, got, want);
     }
 
     private static void due(String what, String got, String want) {
-        if (!got.equals(want)) {
-            wrong++;
-            System.out.println(what + "\n  got " + got + "\n  due " + want);
-        }
+        House.same(what, got, want);
     }
 
-    static void feed(FrontHouse x, String text) {
-        for (int i = 0; i < text.length(); i += 20) {
-            int[] w = new int[5];
-            for (int b = 0; b < 20; b++) {
-                int at = i + b;
-                w[b / 4] = w[b / 4] << 8 | (at < text.length() ? text.charAt(at) & 255 : 0);
-            }
-            x.feed(w[0], w[1], w[2], w[3], w[4]);
-        }
+    private static void feed(FrontHouse x, String text) {
+        House.feed(x, text);
     }
 
     private static FrontHouse taken(String text) {
-        FrontHouse x = new FrontHouse();
-        feed(x, text);
-        due("judge of " + text, x.judge(text.length()), 0);
-        return x;
+        return House.taken(text);
     }
 
     /** Every expression of the text: its sign, type and conversion. */
@@ -239,9 +221,6 @@ public final class TellTexts {
         constants();
         edges();
         lost();
-        System.out.println(wrong == 0 ? "all is told as due" : wrong + " answers are not as due");
-        if (wrong != 0) {
-            System.exit(1);
-        }
+        House.end("texts of which all is told");
     }
 }
