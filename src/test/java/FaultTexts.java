@@ -340,7 +340,7 @@ public final class FaultTexts {
         body(51, "`return 1;");
         due(51, "class A { int f() { `return; } }");
         body(52, "Integer i = `(Integer) 1L;");
-        body(52, "A a = `(A) Integer.class0;".replace("Integer.class0", "new Error()"));
+        body(52, "A a = `(A) new Error();");
         body(52, "Integer i = 1; Long l = 1L; boolean b = i `== l;");
         body(52, "boolean b = new Object() `instanceof int;");
         due(52, "class A<T> { boolean f(Object o) { return o `instanceof A<T>; } }");

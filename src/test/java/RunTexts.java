@@ -159,7 +159,7 @@ public final class RunTexts {
     }
 
     private static void starts() {
-        due("class A { static int x = 3; static final int K = 4; static { } }".replace("static { }", "")
+        due("class A { static int x = 3; static final int K = 4;  }"
             + " class Main { static void main() { Out.put(A.K); Out.put(1); Out.put(A.x); } }", 99, 99, new int[] {0, 0, 6, 0, 2}, "1:4 1:1 1:3");
         due("class P { static int a = put(1); static int put(int i) { Out.put(i); return i; } } class Q extends P { static int b = put(2); } class Main { static void main() { Out.put(Q.a); Out.put(Q.b); } }",
             99, 99, new int[] {0, 0, -9, 0, 3}, "1:1 1:1 1:2 1:2");

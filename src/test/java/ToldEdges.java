@@ -176,6 +176,40 @@ public final class ToldEdges {
         told(head + "o = `(Object) i; } }", 8, 0, -1, 8);
     }
 
+    /** Every expression's PLACE: ` stands ahead of each (it is no part of the text). */
+    private static void placed(String marked) {
+        StringBuilder want = new StringBuilder();
+        StringBuilder text = new StringBuilder();
+        for (int i = 0; i < marked.length(); i++) {
+            if (marked.charAt(i) == '`') {
+                want.append(' ').append(text.length());
+            } else {
+                text.append(marked.charAt(i));
+            }
+        }
+        FrontHouse x = House.taken(text.toString());
+        StringBuilder got = new StringBuilder();
+        for (int i = 0; i < x.count(3); i++) {
+            got.append(' ').append(x.expression(i, 0));
+        }
+        House.same("places of " + marked, got.toString(), want.toString());
+    }
+
+    /** "PLACE of an expression: of an operator's (cast's: its (; ?: 's: the ?) that sign, instanceof; of a call, field its name; ..", "brackets are none". */
+    private static void places() {
+        String head = "class A { static int s; int n; int[] r; A a; Object o; boolean z; static int f(int... x) { return `1; } A() { } A(int x) { } void m() { ";
+        String[] bodies = {"`n `= `1;", "`n `= (`1);", "`n `= `1 `+ `2 `* `3;", "`n `= (`1 `+ `2) `* `3;", "`n `+= `-`1;", "`n `= `- `-`1;", "`n`++;", "`++`n;", "`n `= `(int) `n;", "`n `= `(int) `-`1;", "`n `= `z `? `1 : `2;",
+            "`z `= `o `instanceof A;", "`f(`1, `2);", "A.`f();", "`this.`f();", "`n `= `this.`n;", "`n `= `a.`a.`n;", "`n `= A.`s;", "`n `= `r`[`0];", "`r`[`n]`++;", "`o `= `new A();", "`o `= `new A(`1);", "`o `= `new int[`1][`2][];", "`o `= `new int[][] `{ `{ `1 }, `{ } };",
+            "int[] x = `{ `1, `2 };", "int x = `1, y;", "`n `= `'a' `+ `n;", "`z `= `!`true;", "`o `= `null;", "if (`z) ; while (`z) ; do ; while (`z); for (`n `= `1; `z; `n`++, `f()) ; for (int x : `r) ;", "switch (`n) { case `1: case `2 `+ `3: default: }", "throw `new Error();", "`a.`a.`m();", "`n `= `r.`length;", "`z `= `n `== `1 `&& `z;", "`n `= `n `<< `1 `>> `2 `>>> `3;"};
+        for (String s : bodies) {
+            placed(head + s + " } }");
+        }
+        placed("class A { A() { this(`1); } A(int x) { super(); } int x = `this.`x; }");
+        placed("class P { int x; int f() { return `1; } } class A extends P { int y = super.`x, z = super.`f(); }");
+        placed("class A { int x = `\\u0031 `+ `\\u0032; }");
+        placed("class A { <T> T f(T x) { return `this.<T>`f(`x); } }");
+    }
+
     /** "Methods built in: put -1 .. -5, next -6; a class's constructor that is not told: -200 less its number; of a built-in one: -100 and its number". */
     private static void methodNumbers() {
         String[] put = {"true", "1", "1L", "'a'", "null"};
@@ -292,6 +326,7 @@ public final class ToldEdges {
         types();
         conversions();
         roles();
+        places();
         methodNumbers();
         outside();
         serving();
