@@ -197,6 +197,38 @@ public final class PlaceEdges {
         House.due(43, "class A { void g(byte b) { } void f(boolean z) { `g(z ? 1 : 2); } }");
     }
 
+    /** "A conditional .. stands for itself: it isn't looked into"; "that one below which neither is (null aside)". */
+    private static void standsForItself() {
+        House.body(41, "Byte b = n > 1 `? 1 : null;");
+        House.body(0, "Integer b = n > 1 ? 1 : null; Object o = n > 1 ? 1 : null; int i = n > 1 ? 1 : null;");
+        House.body(0, "byte c = true ? 1 : 2;");
+        House.body(41, "byte b = n > 1 `? 1 : 2;");
+        House.body(41, "Error e = n > 1 `? new Error() : new Throwable();");
+        House.body(0, "Throwable e = n > 1 ? new Error() : new Throwable();");
+        House.due(41, "class A<T> { A<Error> f(boolean z) { return z `? (Object) null : new A<Error>(); } }");
+    }
+
+    /** "A var whose bound is a box (or a var so bound) counts as that box where a number or a boolean is wanted ..". */
+    private static void boundByBoxes() {
+        String head = "class A<T extends Integer, U extends T, Z extends Boolean, O> { T t; U u; Z z; O o; int n; long l; int[] r; void f() { ";
+        String[] fine = {"n = t + u;", "l = t;", "n = -u;", "n = r[t] + r[u];", "Object x = new int[u];", "if (z) n = 1; while (!z) n = 2;", "n = z ? 1 : 2;", "boolean b = t < u && z;", "t++; --u;", "t += 1; u -= t;", "t <<= l;", "z &= true; z = z;",
+            "switch (u) { case 1: }", "n = (int) t; l = (long) u;", "Integer i = t; i = u;", "t = u;", "boolean b = t == 1;", "n = z ? t : u;"};
+        for (String e : fine) {
+            House.due(0, head + e + " } }");
+        }
+        House.due(41, head + "t = `1; } }");
+        House.due(41, head + "u = `t; } }");
+        House.due(41, head + "t = t `+ 1; } }");
+        House.due(42, head + "t `+= l; } }");
+        House.due(42, head + "o`++; } }");
+        House.due(42, head + "n = `-o; } }");
+        House.due(41, head + "if (`o) ; } }");
+        House.due(41, head + "n = r[`z]; } }");
+        House.due(42, head + "z`++; } }");
+        House.due(41, head + "n = `o; } }");
+        House.due(52, head + "byte b = `(byte) t; } }");
+    }
+
     /** "What has no type because a rule is broken in it breaks no other rule by that .. Its type has always: ..". */
     private static void untyped() {
         House.body(40, "boolean b = `q;");
@@ -231,6 +263,8 @@ public final class PlaceEdges {
         casts();
         voids();
         conditionals();
+        standsForItself();
+        boundByBoxes();
         untyped();
         House.end("targets, switches, jumps, casts");
     }

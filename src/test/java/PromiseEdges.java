@@ -249,7 +249,28 @@ public final class PromiseEdges {
         House.same("one too many", x.give(5), -1);
     }
 
+    /** "An object is used for at most 512 calls after it has been made": the last of them answers as the first. */
+    private static void manyCalls() {
+        FrontHouse x = new FrontHouse();
+        int calls = 0;
+        for (int i = 0; i < 85; i++) {
+            for (int k = 0; k < 3; k++) {
+                String part = RUNS.substring(Math.min(RUNS.length(), 20 * k), Math.min(RUNS.length(), 20 * k + 20));
+                House.feed(x, part + House.times(" ", 20 - part.length()));
+                calls++;
+            }
+            House.same("judge", x.judge(RUNS.length()), 0);
+            House.same("run", x.run(50000, 20000), 0);
+            House.same("out", x.out(0, 1), 7);
+            calls += 3;
+        }
+        for (; calls < 512; calls++) {
+            House.same("about", x.about(2), 3);
+        }
+    }
+
     public static void main(String[] args) {
+        manyCalls();
         anew();
         feed();
         judge();

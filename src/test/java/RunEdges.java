@@ -129,6 +129,27 @@ public final class RunEdges {
         needs(main("Object o = new int[n - 1][50000];"), 1, 3, 1);
     }
 
+    /** "boxes of one class with one value are one object"; "Nothing is given back". */
+    private static void boxes() {
+        FrontHouse x = House.taken(main("Integer i = 1000, j = 999 + f(1); Out.put(i == j); j++; Out.put(i == j); Object o = 1, p = (byte) 1, q = 1L, s = 1; Out.put(o == p); Out.put(o == q); Out.put(o == s); Long l = -9223372036854775808L, m = l; Out.put(l == m); Boolean b = true, c = n == 0; Out.put(b == c);"));
+        House.same("run", x.run(50000, 20000), 0);
+        int[] same = {1, 0, 0, 0, 1, 1, 1};
+        for (int i = 0; i < same.length; i++) {
+            House.same("pair " + i, x.out(i, 1), same[i]);
+        }
+        House.same("cells", x.about(3), 2 + 3 + 1 + 1);
+        x = House.taken(main("for (;;) new Object();"));
+        House.same("run", x.run(50000, 20000), 3);
+        House.same("cells", x.about(3), 20000);
+        House.same("steps", x.about(2), 2 + 1 + 2 * 20001);
+        x = House.taken(main("for (int i = 0; ; i++) { Object o = i; }"));
+        House.same("run", x.run(50000, 100), 3);
+        House.same("cells", x.about(3), 100);
+        x = House.taken(main("for (int i = 0; ; i++) { Object o = i % 100; }"));
+        House.same("run", x.run(50000, 100), 2);
+        House.same("cells", x.about(3), 100);
+    }
+
     /** "When there would be more than told, the run ends: FULL"; what was there till then is told. */
     private static void full() {
         FrontHouse x = House.taken(main("Object o = new int[19998];"));
@@ -266,6 +287,7 @@ public final class RunEdges {
         loops();
         bodies();
         cells();
+        boxes();
         full();
         deep();
         out();

@@ -228,6 +228,9 @@ public final class ToldEdges {
         House.same("new A()", x.call(0, 1), -200);
         House.same("new B()", x.call(1, 1), -201);
         House.same("super()", x.call(2, 1), -101);
+        x = House.taken(House.row("class K", " { } ", "", 23) + "class L { Object o = new K22(), p = new L(); }");
+        House.same("new of kind 22", x.call(0, 1), -222);
+        House.same("new of kind 23", x.call(1, 1), -223);
         x = House.taken("class A { A() { this(1); } A(int x) { } private void p() { } void q() { } static void s() { } void f(A a) { p(); q(); s(); a.p(); a.q(); a.s(); A.s(); new A(); } } class B extends A { B() { super(1); } void f() { super.q(); super.s(); } }");
         int[] number = {1, 2, 3, 4, 2, 3, 4, 4, 0, 1, 3, 4};
         int[] how = {1, 1, 2, 0, 1, 2, 0, 0, 1, 1, 1, 0};
