@@ -325,7 +325,47 @@ public final class ToldEdges {
         House.same("place", x.method(4, 0), text.indexOf("i()"));
     }
 
+    /** "NUMBERS: kinds, and methods with constructors, by text from 0 on": the last ones that there can be. */
+    private static void most() {
+        String text = "class A { " + House.row("void m", "(){}", "", 120) + " }";
+        FrontHouse x = House.taken(text);
+        House.same("methods", x.count(1), 120);
+        House.same("method 119", x.method(119, 0), text.indexOf("m119"));
+        House.same("method 120", x.method(120, 0), -1);
+        House.same("methods of A", x.kind(0, 6), 120);
+        House.same("serves", x.serves(0, 119), 119);
+        House.same("serves", x.serves(0, 120), -1);
+        text = "class A { int " + House.row("a", "", ",", 120) + "; }";
+        x = House.taken(text);
+        House.same("fields", x.count(2), 120);
+        House.same("fields of an object", x.kind(0, 5), 120);
+        text = House.row("interface I", " { } ", "", 6) + House.row("class K", " { } ", "", 17) + "class Z extends K0 implements " + House.row("I", "", ", ", 6) + " { void f(" + House.row("int p", "", ", ", 8) + ") { } }";
+        x = House.taken(text);
+        House.same("kinds", x.count(0), 24);
+        House.same("kind 23", x.kind(23, 0), text.indexOf("Z extends"));
+        House.same("parent of kind 23", x.kind(23, 2), 6);
+        House.same("interfaces of kind 23", x.kind(23, 3), 6);
+        House.same("kind 24", x.kind(24, 0), -1);
+        House.same("formals", x.method(0, 2), 8);
+        House.same("locals", x.method(0, 5), 8);
+        text = "class A { int x = " + House.times("(", 20) + "1" + House.times(" + 1)", 20) + "; }";
+        x = House.taken(text);
+        House.same("expressions", x.count(3), 41);
+        House.same("constants", x.count(6), 41);
+        House.same("expression 40", x.expression(40, 0), text.lastIndexOf("1)"));
+        House.same("expression 41", x.expression(41, 0), -1);
+        StringBuilder b = new StringBuilder("class A { void f() { ");
+        for (int i = 0; i < 740; i++) {
+            b.append("f();");
+        }
+        x = House.taken(b + "} }");
+        House.same("calls", x.count(4), 740);
+        House.same("call 739", x.call(739, 0), b.length() - 4);
+        House.same("call 740", x.call(740, 0), -1);
+    }
+
     public static void main(String[] args) {
+        most();
         types();
         conversions();
         roles();
