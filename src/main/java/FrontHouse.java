@@ -1260,6 +1260,8 @@ public final class FrontHouse {
         private static final int DEPTH = 40;
         private static final int PREFIX = 200;
         private static final int CASTING_SIGN = 199;
+        private static final int RELATION = 7;
+        private static final int LISTED = 2;
 
         private final Words words;
         private final Tree tree;
@@ -1630,15 +1632,20 @@ public final class FrontHouse {
             return first;
         }
 
-        private int readRef() {
+        private int readTypeName() {
             int n = make(X_TYPE, here());
             tree.set(n, XT, scope);
-            if (tok != T_NAME) {
+            if (tok == T_NAME) {
+                tree.set(n, NM, words.name(at));
+                next();
+            } else {
                 wrong();
-                return n;
             }
-            tree.set(n, NM, words.name(at));
-            next();
+            return n;
+        }
+
+        private int readRef() {
+            int n = readTypeName();
             if (tok == T_LT) {
                 tree.set(n, CA, readTypeArgs());
             }
@@ -1901,7 +1908,7 @@ public final class FrontHouse {
             tree.fields.put(f, F_DIMS, tree.node(n, CD));
             if (tok == T_ASSIGN) {
                 next();
-                tree.fields.put(f, F_INIT, readInit());
+                tree.fields.put(f, F_INIT, readInit(0));
             } else if ((flags & FINAL) != 0 && fault == 0) {
                 int blanks = tree.kinds.get(home, K_BLANKS);
                 if (blanks >= 20) {
@@ -2101,12 +2108,12 @@ public final class FrontHouse {
         private void readInitOf(int d) {
             if (tok == T_ASSIGN) {
                 next();
-                tree.set(d, CA, readInit());
+                tree.set(d, CA, readInit(0));
             }
         }
 
-        private int readInit() {
-            return tok == T_LBRACE ? readBraces() : readExp(0);
+        private int readInit(int level) {
+            return tok == T_LBRACE ? readBraces() : readExp(level);
         }
 
         private int readBraces() {
@@ -2122,7 +2129,7 @@ public final class FrontHouse {
                     limit();
                     break;
                 }
-                int e = readInit();
+                int e = readInit(LISTED);
                 first = link(first, last, e);
                 last = e;
                 deep = Math.max(deep, tree.node(e, FI));
@@ -2429,7 +2436,7 @@ public final class FrontHouse {
 
         private static int power(int t) {
             if (t == T_INSTANCEOF) {
-                return 7;
+                return RELATION;
             }
             return t >= T_OROR && t <= T_PERCENT ? POWERS[t - T_OROR] : 0;
         }
@@ -2445,7 +2452,7 @@ public final class FrontHouse {
             }
         }
 
-        /** Level 0 takes assignments, level 1 none. */
+        /** Level 0 takes assignments, level 1 none; LISTED besides, where a comma and one more may follow. */
         private int readExp(int level) {
             int base = top;
             int right = readOperand();
@@ -2462,9 +2469,12 @@ public final class FrontHouse {
                     next();
                     int n = make(E_IS, place);
                     tree.set(n, CA, right);
-                    tree.set(n, CB, readType());
+                    tree.set(n, CB, readTested((level & LISTED) != 0));
                     deepen(n, depth(right));
                     right = n;
+                    if (power(tok) > RELATION) {
+                        wrong();
+                    }
                 } else {
                     push(tok, place, right);
                     next();
@@ -2473,13 +2483,62 @@ public final class FrontHouse {
             }
             right = reduce(base, right, 0);
             if (tok == T_QUEST) {
-                right = readConditional(right);
+                right = readConditional(right, level & LISTED);
             }
-            if (level == 0 && tok >= T_ASSIGN && tok <= T_ORA) {
-                right = readAssignment(right);
+            if ((level & 1) == 0 && assigns(tok)) {
+                right = readAssignment(right, level);
             }
             top = base;
             return right;
+        }
+
+        private static boolean assigns(int t) {
+            return t >= T_ASSIGN && t <= T_ORA;
+        }
+
+        /** The type of an instanceof; a < behind its name begins type arguments, or is an operator. */
+        private int readTested(boolean listed) {
+            if (tok != T_NAME || ahead() != T_LT) {
+                return readType();
+            }
+            int behind = scan(at);
+            if (behind >= 0 && followsTested(words.kindBehind(behind / 4, behind % 4))
+                    && (behind % 4 == 0 || !operands(behind / 4, listed))) {
+                return readType();
+            }
+            reachTo(behind, at, nest);
+            return readTypeName();
+        }
+
+        /** Whether a text goes on with the token behind the type of an instanceof. */
+        private static boolean followsTested(int t) {
+            switch (t) {
+                case T_QUEST:
+                case T_COLON:
+                case T_COMMA:
+                case T_SEMI:
+                case T_RPAREN:
+                case T_RBRACK:
+                case T_RBRACE:
+                    return true;
+                default:
+                    return assigns(t) || (power(t) > 0 && power(t) <= RELATION);
+            }
+        }
+
+        /**
+         * Whether the tokens from here to this one are names with operators between them, too: then
+         * the last one, which type arguments would take in parts, stays as long as it can be.
+         */
+        private boolean operands(int last, boolean listed) {
+            for (int i = at; i <= last; i++) {
+                int t = words.kindOf(i);
+                boolean name = (i - at) % 2 == 0;
+                if (name ? t != T_NAME : t != T_LT && words.closers(i) == 0 && !(listed && t == T_COMMA)) {
+                    return false;
+                }
+            }
+            return true;
         }
 
         private int reduce(int base, int operand, int least) {
@@ -2505,14 +2564,14 @@ public final class FrontHouse {
             return n;
         }
 
-        private int readConditional(int condition) {
+        private int readConditional(int condition, int listed) {
             int n = make(E_COND, here());
             int yes = readRight(0);
             if (tok != T_COLON) {
                 wrong();
                 return n;
             }
-            int no = readRight(1);
+            int no = readRight(listed | 1);
             tree.set(n, CA, condition);
             tree.set(n, CB, yes);
             tree.set(n, CC, no);
@@ -2520,10 +2579,10 @@ public final class FrontHouse {
             return n;
         }
 
-        private int readAssignment(int left) {
+        private int readAssignment(int left, int level) {
             int n = make(E_ASSIGN, here());
             tree.set(n, OP, tok);
-            int right = readRight(0);
+            int right = readRight(level);
             tree.set(n, CA, left);
             tree.set(n, CB, right);
             deepen(n, Math.max(depth(left), depth(right)));
@@ -2762,7 +2821,7 @@ public final class FrontHouse {
                     limit();
                     break;
                 }
-                int e = readExp(0);
+                int e = readExp(LISTED);
                 deep = Math.max(deep, depth(e));
                 first = link(first, last, e);
                 last = e;

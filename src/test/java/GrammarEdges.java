@@ -107,7 +107,41 @@ public final class GrammarEdges {
         House.body(0, "int[] a = null; a[0] = 1; a[n] = 2; boolean b = n < n; f(n);");
     }
 
+    private static void tested(int fault, String... values) {
+        for (String v : values) {
+            House.due(fault, "class A { boolean f(Object o, int b, int[] r) { return " + v + "; } }");
+        }
+    }
+
+    /** "< <= >= > and instanceof type .. from the left": a < behind a type's name begins type arguments, or stands behind the instanceof. */
+    private static void lessBehindInstanceof() {
+        tested(42, "o instanceof A `< 1", "o instanceof A `< b", "o instanceof A `< b > b", "o instanceof A `<= b", "o instanceof A `> b", "o instanceof A `< b < b", "o instanceof A `< b + b", "o instanceof A `< -b");
+        tested(42, "o instanceof A `< b > (b)", "o instanceof A `< b > -b", "o instanceof A `< b > ++b", "o instanceof A `< b > 1", "o instanceof A `< b > this.f(o, b, r)", "o instanceof A `< b > (int) b", "o instanceof A `< b > !true", "o instanceof A `< b > new A[b].length");
+        tested(42, "o instanceof A `< (b)", "o instanceof A `< r[0]", "o instanceof A `< r.length", "o instanceof A `< b++", "o instanceof A `< b && true", "o instanceof A `< b ? true : false", "(o instanceof A `< b)", "o instanceof A[] `< b", "o instanceof A[] `< b > b", "o instanceof A `< b == true", "o instanceof A `< b instanceof Object");
+        tested(42, "o instanceof A `< b >> b", "o instanceof A `< b >>> b", "o instanceof A `< b >= b", "o instanceof A `< b >>= b", "o instanceof A `< b < b >> b", "o instanceof A `< b << b");
+        tested(43, "`g(o instanceof A < b, b > b)", "`g(o instanceof A < b, b >> b)", "`g(o instanceof A < b, b)", "`g(true ? true : o instanceof A < b, b >> b)");
+        tested(31, "o instanceof `A<A>", "(o instanceof `A<A>)", "o instanceof `A<A> && true", "o instanceof `A<A>[]", "o instanceof `A<A, A>", "o instanceof `A<A[]>", "o instanceof `A<int[]> > b", "o instanceof `A<int[]>> b", "o instanceof `A<A> > b", "o instanceof `A<A> < b");
+        tested(31, "o instanceof `A<A> ? true : false", "true ? o instanceof `A<A> : false", "o instanceof `A<A> == true", "o instanceof `A<A> instanceof Object", "o instanceof `A<A> = true", "o instanceof `A<A<A>>", "o instanceof `A<A, A>> b", "(o instanceof `A<A, A>> b)");
+        tested(1, "o instanceof A<b[]> `b", "o instanceof A<b, b> `b", "o instanceof A<int[]> `1", "o instanceof A<b, `1", "o instanceof A < b > `* b", "o instanceof A<b>`.f", "o instanceof A<b>[`1]", "o instanceof A<int`>", "o instanceof A<b, b`", "o instanceof A < `", "o instanceof A<b[]> `switch");
+        tested(2, "o instanceof A `<>", "o instanceof A<`?>", "o instanceof A<b, `?>", "o instanceof A < b > `switch", "o instanceof A<b> `<>", "o instanceof A<b, int[], `?>");
+        House.due(1, "class A { boolean x = null instanceof A<b, c> `d; }");
+        House.due(31, "class A { boolean x = null instanceof `A<A, A>> 1; }");
+        House.due(0, "class A { boolean x = null instanceof A, b, c; }");
+        House.due(42, "class A { boolean[] x = { null instanceof A `< 1, 2 >> 3 }; }");
+    }
+
+    /** "<< >> >>>, + -, * / %" bind closer than instanceof: behind its type they can't stand. */
+    private static void closerBehindInstanceof() {
+        for (String sign : new String[] {"<<", ">>", ">>>", "+", "-", "*", "/", "%", "++", "--"}) {
+            tested(1, "o instanceof A `" + sign + " b", "true == o instanceof A `" + sign + " b", "o instanceof A[] `" + sign + " b", "(o instanceof A `" + sign + " b)");
+        }
+        tested(42, "(o instanceof A) `+ b", "b `+ o instanceof A", "b `<< o instanceof A");
+        tested(0, "o instanceof A == o instanceof A", "o instanceof A & true", "!(o instanceof A) ^ true", "true || o instanceof A", "o instanceof A ? o instanceof A : false");
+    }
+
     public static void main(String[] args) {
+        lessBehindInstanceof();
+        closerBehindInstanceof();
         kinds();
         members();
         types();
