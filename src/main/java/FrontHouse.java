@@ -4201,8 +4201,11 @@ public final class FrontHouse {
         }
 
         private boolean sameSignature(int m, int o, int k) {
-            int viewM = viewOf(m, k);
-            int viewO = viewOf(o, k);
+            return sameSeen(m, viewOf(m, k), o, viewOf(o, k));
+        }
+
+        /** Whether two methods with as many formals have the same signature as these views see them [8.4.2]. */
+        boolean sameSeen(int m, int viewM, int o, int viewO) {
             int list = tree.methods.get(m, M_ARGS);
             if (tree.methods.get(m, M_VARS) != tree.methods.get(o, M_VARS)) {
                 return false;
@@ -4237,11 +4240,24 @@ public final class FrontHouse {
             int viewM = viewOf(m, k);
             int viewO = viewOf(o, k);
             for (int i = 0; i < many; i++) {
-                if (formal(m, i, viewM, NONE) != types.erasure(formal(o, i, viewO, NONE))) {
+                if (formal(m, i, viewM, NONE) != erased(o, types.listed(tree.methods.get(o, M_FTYPES) + i), viewO)) {
                     return false;
                 }
             }
             return true;
+        }
+
+        /** The erasure of a type that a method tells, as a view sees it: the bounds of the method's own vars, too. */
+        private int erased(int m, int t, int view) {
+            int part = types.behindDims(t);
+            int first = tree.methods.get(m, M_VAR0);
+            for (int i = 0; i < 4 && types.isVar(part); i++) {
+                int v = types.of(part) - first;
+                if (v >= 0 && v < tree.methods.get(m, M_VARS)) {
+                    part = types.bound(part);
+                }
+            }
+            return types.arrayOf(types.erasure(seen(m, part, view, NONE)), types.dims(t));
         }
 
         /** Whether the result of m can stand for that of o [8.4.5]. */
@@ -4254,7 +4270,10 @@ public final class FrontHouse {
             if (!types.isRef(a) || !types.isRef(b)) {
                 return a == b;
             }
-            return types.subtype(a, b) || (!sameSignature(m, o, k) && a == types.erasure(b));
+            if (types.subtype(a, b)) {
+                return true;
+            }
+            return !sameSignature(m, o, k) && a == erased(o, tree.methods.get(o, M_TYPE), viewO);
         }
 
         boolean isChecked(int t) {
@@ -4456,7 +4475,7 @@ public final class FrontHouse {
                         return true;
                     }
                     boolean openToo = tree.methods.has(o, M_FLAGS, ABSTRACT);
-                    if ((there || back) && !open && !openToo) {
+                    if ((there || back) && !(open && openToo)) {
                         return true;
                     }
                     if ((there || back) && open && openToo && !someResultFits(k, m)) {
@@ -4493,7 +4512,7 @@ public final class FrontHouse {
             return open && (subsignature(o, m, k) || subsignature(m, o, k));
         }
 
-        /** A class's method that is inherited, against the interfaces that the kind tells itself. */
+        /** A class's method that is inherited, against those of the interfaces that the kind tells itself and doesn't inherit. */
         private boolean breaksFaces(int k, int m) {
             if (tree.isInterface(tree.methods.get(m, M_KIND)) || tree.isInterface(k)) {
                 return false;
@@ -4503,7 +4522,7 @@ public final class FrontHouse {
                 for (int j = BUILT_INS; j < tree.kinds.size(); j++) {
                     if (types.aboveOf(face, j) != 0) {
                         for (int o = tree.kinds.get(j, K_M0); o < tree.kinds.get(j, K_M1); o++) {
-                            if (subsignature(m, o, k) && breaks(m, o, k)) {
+                            if (!hasMember(k, o) && subsignature(m, o, k) && breaks(m, o, k)) {
                                 return true;
                             }
                         }
@@ -4521,7 +4540,7 @@ public final class FrontHouse {
             int c = k;
             for (int i = 0; i < ALL_KINDS && c >= BUILT_INS; i++) {
                 for (int o = tree.kinds.get(c, K_M0); o < tree.kinds.get(c, K_M1); o++) {
-                    boolean there = !tree.methods.has(o, M_FLAGS, STATIC | PRIVATE | CTOR);
+                    boolean there = !tree.methods.has(o, M_FLAGS, STATIC | PRIVATE | CTOR | ABSTRACT);
                     if (there && (o == m || subsignature(o, m, k))) {
                         return o;
                     }
@@ -5635,6 +5654,7 @@ public final class FrontHouse {
             for (int a = tree.node(n, CB); a != 0; a = tree.node(a, NX)) {
                 value(a);
             }
+            tree.set(n, FI, type);
             tree.set(n, SY, NONE);
             if (type == 0) {
                 return 0;
@@ -6168,21 +6188,22 @@ public final class FrontHouse {
                 int kind = tree.node(s, KD);
                 if (kind == S_CASE || kind == S_DEFAULT) {
                     alive = true;
-                } else {
-                    if (!alive) {
-                        tree.report(60, tree.node(s, FI));
-                    }
+                } else if (alive) {
                     alive = reach(s);
+                } else {
+                    tree.report(60, tree.node(s, FI));
                 }
             }
             return alive;
         }
 
+        /** What can't be reached isn't looked into: no jump in it counts, and it has no end. */
         private boolean reachLoop(int n, int condition, int body) {
             if (never(condition)) {
                 tree.report(60, tree.node(body, FI));
+            } else {
+                reach(body);
             }
-            reach(body);
             return !always(condition) || has(n, BROKEN);
         }
 
@@ -6459,9 +6480,56 @@ public final class FrontHouse {
             if (kind == E_COND) {
                 walkExp(tree.node(n, CC));
             }
-            if (kind == E_CALL || kind == E_NEW) {
+            if (kind == E_CALL && tree.methods.has(tree.node(n, SY), M_FLAGS, ABSTRACT)) {
+                openThrows(n);
+            } else if (kind == E_CALL || kind == E_NEW) {
                 callThrows(tree.node(n, SY), tree.node(n, CD), tree.node(n, HI), tree.node(n, PL));
             }
+        }
+
+        /** Of several abstract methods with the chosen one's signature: what each of them tells [15.12.2.5]. */
+        private void openThrows(int n) {
+            int k = types.of(types.boundOf(tree.node(n, FI)));
+            for (int i = tree.kinds.get(k, K_MEM0); i < tree.kinds.get(k, K_MEM1); i++) {
+                int o = heads.member(i);
+                if (isBrother(n, o)) {
+                    int view = types.asSuper(tree.node(n, FI), tree.methods.get(o, M_KIND));
+                    for (int e = tree.methods.get(o, M_THROWS); e != 0; e = tree.node(e, NX)) {
+                        int t = heads.seen(o, tree.node(e, TY), view, tree.node(n, HI));
+                        if (eachTells(n, k, t)) {
+                            throwOne(t, tree.node(n, PL));
+                        }
+                    }
+                }
+            }
+        }
+
+        /** Whether a method that the type ahead of a call has is the chosen one or has its signature. */
+        private boolean isBrother(int n, int o) {
+            int m = tree.node(n, SY);
+            if (o == m || tree.methods.get(o, M_NAME) != tree.methods.get(m, M_NAME)
+                || tree.methods.get(o, M_COUNT) != tree.methods.get(m, M_COUNT)) {
+                return o == m;
+            }
+            int view = types.asSuper(tree.node(n, FI), tree.methods.get(o, M_KIND));
+            return heads.sameSeen(m, tree.node(n, CD), o, view);
+        }
+
+        private boolean eachTells(int n, int k, int t) {
+            for (int i = tree.kinds.get(k, K_MEM0); i < tree.kinds.get(k, K_MEM1); i++) {
+                int o = heads.member(i);
+                if (isBrother(n, o)) {
+                    int view = types.asSuper(tree.node(n, FI), tree.methods.get(o, M_KIND));
+                    boolean told = false;
+                    for (int e = tree.methods.get(o, M_THROWS); e != 0 && !told; e = tree.node(e, NX)) {
+                        told = types.subtype(t, heads.seen(o, tree.node(e, TY), view, tree.node(n, HI)));
+                    }
+                    if (!told) {
+                        return false;
+                    }
+                }
+            }
+            return true;
         }
 
         /** Whether CA of an expression is a part of it. */

@@ -127,7 +127,7 @@ public final class MemberEdges {
         House.due(37, "interface I { void f(); } class A { public static void f() { } } class `B extends A implements I { }");
         House.due(37, "interface I { void f(); } class A { public void f() throws Exception { } } class `B extends A implements I { }");
         House.due(37, "interface I { void f(); } interface J extends I { } class A { void f() { } } class `B extends A implements J { }");
-        House.due(37, "interface I { void f(); } abstract class A { abstract void f(); } abstract class `B extends A implements I { }");
+        House.fine("interface I { void f(); } abstract class A { abstract void f(); } abstract class B extends A implements I { }");
         House.fine("interface I { void f(); } class A { public final void f() { } } class B extends A implements I { }");
         House.due(37, "class A<T> { void f(T x) { } void f(Error x) { } } class `B extends A<Error> { }");
         House.fine("class A<T> { void f(T x) { } void f(Error x) { } } class B extends A<Exception> { }");

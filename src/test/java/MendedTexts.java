@@ -1,0 +1,101 @@
+/** What was mended when the document was gone through once more: each with what is due, and what stands beside it. */
+public final class MendedTexts {
+
+    private static void runs(String text, long... puts) {
+        FrontHouse x = House.taken(text);
+        House.same(text + "\n   run", x.run(5000, 2000), 0);
+        House.same(text + "\n   entries", x.about(4), puts.length);
+        for (int i = 0; i < puts.length; i++) {
+            House.same(text + "\n   entry " + i, x.out(i, 1), puts[i]);
+        }
+    }
+
+    /** [15.12.2.5]: of several abstract methods with one signature a call throws what each of them tells. */
+    private static void thrownByEach() {
+        String kinds = "class X extends Exception { } class Y extends X { } class Z extends Exception { } ";
+        String open = kinds + "interface I { void f() throws X; } interface J { void f() throws ";
+        House.fine(kinds + "interface I { void f() throws X; } interface J { void f(); } "
+            + "abstract class C implements I, J { void g() { f(); } }");
+        House.fine(kinds + "interface J { void f(); } interface I { void f() throws X; } "
+            + "interface K extends I, J { } class C { void g(K k) { k.f(); } }");
+        House.fine(open + "Y; } abstract class C implements I, J { void g() throws Y { f(); } }");
+        House.due(63, open + "Y; } abstract class C implements I, J { void g() throws Z { `f(); } }");
+        House.due(63, open + "X; } abstract class C implements I, J { void g() throws Y { `f(); } }");
+        House.fine(open + "Z; } abstract class C implements I, J { void g() { f(); } }");
+        House.fine(open + "Exception; } abstract class C implements I, J { void g() throws X { f(); } }");
+        House.due(63, open + "Y; } class C { void g(I i) throws Y { i.`f(); } }");
+        House.due(64, open + "Z; } abstract class C implements I, J { void g() { try { f(); } catch (`X e) { } } }");
+        House.fine(kinds + "interface I<E extends Exception> { void f() throws E; } interface J { void f() throws Y; } "
+            + "interface K extends I<X>, J { } class C { void g(K k) throws Y { k.f(); } }");
+        House.due(63, kinds + "interface I<E extends Exception> { void f() throws E; } interface J { void f() throws Y; } "
+            + "interface K extends I<X>, J { } class C { void g(K k) { k.`f(); } }");
+        House.fine(kinds + "interface I { <T> void f(T t) throws X; } interface J { <U> void f(U u); } "
+            + "interface K extends I, J { } class C { void g(K k) { k.<C>f(null); } }");
+        House.due(63, kinds + "interface I { void f() throws X; void f(int x); } class C { void g(I i) { i.`f(); } }");
+    }
+
+    /** [8.4.2]: the erasure of a signature as a member, whose vars have the bounds that the type arguments make. */
+    private static void erasedAsMember() {
+        String above = "class A { } class P<X> { <T extends X> int f(T t) { return 1; } } ";
+        runs(above + "class C extends P<A> { int f(A a) { return 2; } } class Main { static void main() { "
+            + "P<A> p = new C(); Out.put(p.<A>f(new A())); C c = new C(); Out.put(c.f(new A())); } }", 2, 2);
+        House.due(36, above + "class C extends P<A> { long `f(A a) { return 2; } }");
+        House.fine(above + "class C extends P<A> { long f(Error a) { return 2; } }");
+        House.due(36, above + "class C extends P<A> { long `f(Object a) { return 2; } }");
+        House.same("methods of C", House.taken(above + "class C extends P<A> { int f(A a) { return 2; } }").kind(2, 6), 1);
+        House.same("methods of C", House.taken(above + "class C extends P<A> { int f(Error a) { return 2; } }").kind(2, 6), 2);
+        House.fine("class A { } class P<X> { <T extends X> T f() { return null; } } class C extends P<A> { A f() { return null; } }");
+        House.due(36, "class A { } class P<X> { <T extends X> T f() { return null; } } class C extends P<A> { Object `f() { return null; } }");
+        House.fine("class A { } class P<X> { <S extends X, T extends S> void f(T[] t) { } } class C extends P<A> { void f(A[] t) { } }");
+        House.same("methods of C", House.taken("class A { } class P<X> { <S extends X, T extends S> void f(T[] t) { } } "
+            + "class C extends P<A> { void f(A[] t) { } }").kind(2, 6), 1);
+    }
+
+    /** What serves is never abstract, wherever it stands in its class. */
+    private static void servedByWhole() {
+        String main = " class B extends A<Integer> { } class Main { static void main() { A<Integer> a = new B(); a.f(5); new B().f(6); } }";
+        runs("abstract class A<T> { abstract void f(T t); void f(Integer i) { Out.put((int) i); } }" + main, 5, 6);
+        runs("abstract class A<T> { void f(Integer i) { Out.put((int) i); } abstract void f(T t); }" + main, 5, 6);
+        runs("abstract class A<T> { abstract void f(Integer i); void f(T t) { Out.put(7); } }" + main, 7, 7);
+        runs("abstract class A<T> { void f(T t) { Out.put(7); } abstract void f(Integer i); }" + main, 7, 7);
+        FrontHouse x = House.taken("abstract class A<T> { abstract void f(T t); void f(Integer i) { } }" + main);
+        House.same("serves(1, 0)", x.serves(1, 0), 1);
+        House.same("serves(1, 1)", x.serves(1, 1), 1);
+        House.same("serves(0, 0)", x.serves(0, 0), -1);
+        House.same("its methods", x.kind(1, 6), 1);
+    }
+
+    /** [8.4.8.4]: two abstract ones are both inherited, and only their results must fit; one with a body can't stand beside another one. */
+    private static void inheritedTogether() {
+        String face = "interface I { void f(); } ";
+        House.fine(face + "abstract class A { abstract void f(); } abstract class B extends A implements I { }");
+        House.fine(face + "abstract class A { public abstract void f() throws Exception; } abstract class B extends A implements I { }");
+        House.due(37, face + "abstract class A { public abstract int f(); } abstract class `B extends A implements I { }");
+        House.due(37, face + "class A { void f() { } } abstract class `B extends A implements I { }");
+        House.due(37, face + "class A { public void f() throws Exception { } } abstract class `B extends A implements I { }");
+        House.due(36, face + "abstract class A { abstract void f(); } abstract class B extends A implements I { abstract void `f(); }");
+        House.due(37, "class A { } class P<T> { public <V> void f(T t) { } } interface I { void f(A a); } abstract class `C extends P<A> implements I { }");
+        House.due(37, "class K { <V extends K> void f(V v) { } } abstract class L<T> extends K { abstract int f(T t); } abstract class `M extends L<K> { }");
+        House.fine("class K { <V extends K> void f(V v) { } } abstract class L<T> extends K { abstract int f(T t); } abstract class M extends L<Error> { }");
+    }
+
+    /** [14.22]: what can't be reached has no end, and no jump in it counts. */
+    private static void unreached() {
+        String kinds = "class Z extends Exception { } class M { static void t() throws Z { } void m() { ";
+        House.due(60, kinds + "try { t(); } finally { while (true) { } `; } } }");
+        House.due(60, kinds + "try { t(); } finally { return; `; } } }");
+        House.due(60, kinds + "try { t(); } finally { L: for (;;) { while (false) `break L; } } } }");
+        House.due(60, kinds + "try { t(); } finally { L: for (;;) { throw null; `break L; } } } }");
+        House.due(63, kinds + "try { `t(); } finally { L: for (;;) { break L; } } } }");
+        House.due(60, "class M { void m() { for (;;) { for (;;) { } `break; } } }");
+    }
+
+    public static void main(String[] args) {
+        thrownByEach();
+        erasedAsMember();
+        servedByWhole();
+        inheritedTogether();
+        unreached();
+        House.end("what was mended");
+    }
+}
