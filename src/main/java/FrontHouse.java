@@ -4185,7 +4185,7 @@ public final class FrontHouse {
             return seen(m, types.listed(tree.methods.get(m, M_FTYPES) + i), view, list);
         }
 
-        private boolean sameErasure(int m, int o) {
+        boolean sameErasure(int m, int o) {
             int many = tree.methods.get(m, M_COUNT);
             if (tree.methods.get(m, M_NAME) != tree.methods.get(o, M_NAME) || many != tree.methods.get(o, M_COUNT)) {
                 return false;
@@ -4816,18 +4816,21 @@ public final class FrontHouse {
                     wholes++;
                 }
             }
-            if (wholes > 0) {
-                return wholes == 1 ? whole : -1;
-            }
+            return wholes == 0 ? lowest(kept) : wholes == 1 ? whole : -1;
+        }
+
+        /** Of abstract ones, told with the same erasures of their formals, the first one whose result is below all others'. */
+        private int lowest(int kept) {
             int best = -1;
             for (int i = 0; i < kept; i++) {
-                boolean low = true;
+                if (!heads.sameErasure(found[fit[0]], found[fit[i]])) {
+                    return -1;
+                }
+                boolean low = best < 0 || found[fit[i]] < found[best];
                 for (int j = 0; j < kept && low; j++) {
                     low = i == j || resultBelow(fit[i], fit[j]);
                 }
-                if (low && (best < 0 || found[fit[i]] < found[best])) {
-                    best = fit[i];
-                }
+                best = low ? fit[i] : best;
             }
             return best;
         }
@@ -6504,12 +6507,15 @@ public final class FrontHouse {
             }
         }
 
-        /** Whether a method that the type ahead of a call has is the chosen one or has its signature. */
+        /** Whether a method that the type ahead of a call has is the chosen one, or was found with its signature. */
         private boolean isBrother(int n, int o) {
             int m = tree.node(n, SY);
             if (o == m || tree.methods.get(o, M_NAME) != tree.methods.get(m, M_NAME)
                 || tree.methods.get(o, M_COUNT) != tree.methods.get(m, M_COUNT)) {
                 return o == m;
+            }
+            if (tree.node(n, LO) == 3 && !tree.methods.has(o, M_FLAGS, VARARGS)) {
+                return false;
             }
             int view = types.asSuper(tree.node(n, FI), tree.methods.get(o, M_KIND));
             return heads.sameSeen(m, tree.node(n, CD), o, view);

@@ -31,6 +31,7 @@ public final class MendedTexts {
             + "interface K extends I<X>, J { } class C { void g(K k) { k.`f(); } }");
         House.fine(kinds + "interface I { <T> void f(T t) throws X; } interface J { <U> void f(U u); } "
             + "interface K extends I, J { } class C { void g(K k) { k.<C>f(null); } }");
+        House.due(63, kinds + "interface I<T> { void f(T... x) throws X; void f(Long[] x); } class C { void g(I<Long> i) { i.`f(); } }");
         House.due(63, kinds + "interface I { void f() throws X; void f(int x); } class C { void g(I i) { i.`f(); } }");
     }
 
@@ -79,6 +80,17 @@ public final class MendedTexts {
         House.fine("class K { <V extends K> void f(V v) { } } abstract class L<T> extends K { abstract int f(T t); } abstract class M extends L<Error> { }");
     }
 
+    /** [15.12.2.5]: abstract ones must be told with the same erasures of their formals, one with a body needn't. */
+    private static void toldAlike() {
+        House.due(44, "interface I<T> { void f(T t); void f(Integer i); } class A { void g(I<Integer> i) { i.`f(1); } }");
+        House.fine("interface I<T> { void f(T t); void f(Integer i); } class A { void g(I<Long> i) { i.f(1); } }");
+        House.fine("interface I<T> { void f(T t); } interface J<T> { void f(T t); } interface K extends I<Integer>, J<Integer> { } "
+            + "class A { void g(K k) { k.f(1); } }");
+        House.due(44, "interface I<T> { void f(T t); } interface J { void f(Integer t); } interface K extends I<Integer>, J { } "
+            + "class A { void g(K k) { k.`f(1); } }");
+        House.fine("abstract class B<T> { abstract void f(T t); void f(Integer i) { } } class A { void g(B<Integer> b) { b.f(1); } }");
+    }
+
     /** [14.22]: what can't be reached has no end, and no jump in it counts. */
     private static void unreached() {
         String kinds = "class Z extends Exception { } class M { static void t() throws Z { } void m() { ";
@@ -95,6 +107,7 @@ public final class MendedTexts {
         erasedAsMember();
         servedByWhole();
         inheritedTogether();
+        toldAlike();
         unreached();
         House.end("what was mended");
     }
