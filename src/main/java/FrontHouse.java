@@ -1725,7 +1725,8 @@ public final class FrontHouse {
             }
             int mods = readModifiers();
             int flags = flagsOf(mods);
-            if ((tok == T_LBRACE && !face) || tok == T_CLASS || tok == T_INTERFACE) {
+            boolean starts = tok == T_LBRACE && !face && startsInitializer(mods);
+            if (starts || tok == T_CLASS || tok == T_INTERFACE) {
                 refuse();
                 return;
             }
@@ -1753,6 +1754,11 @@ public final class FrontHouse {
             } else {
                 readFields(mods, flags, type);
             }
+        }
+
+        /** Nothing or a single static stands ahead of an initializer's { [8.6], [8.7]. */
+        private boolean startsInitializer(int mods) {
+            return mods == 0 || (tree.node(mods, OP) == STATIC && tree.node(mods, NX) == 0);
         }
 
         private boolean countMember() {
@@ -3826,6 +3832,7 @@ public final class FrontHouse {
             }
             int v = varNamed(tree.node(n, XT), tree.node(n, NM));
             int k = v == -1 ? tree.kindNamed(tree.node(n, NM)) : -1;
+            tree.set(n, SY, k + 1);
             int wanted = v >= 0 ? 0 : tree.kinds.get(k, K_VARS);
             if ((v < 0 && k < 0) || given != wanted) {
                 tree.report(31, tree.node(n, PL));
@@ -3844,11 +3851,16 @@ public final class FrontHouse {
             return types.kindWith(k, mark);
         }
 
+        /** The kind that a type's name means, whatever its type arguments are; -1 if it means none. */
+        private int kindMeant(int n) {
+            return n == 0 ? -1 : tree.node(n, SY) - 1;
+        }
+
         private void findParent(int k) {
             tree.kinds.put(k, K_PARENT, OBJECT);
-            int t = tree.node(tree.kinds.get(k, K_EXT), TY);
-            if (types.isKind(t) && !tree.isInterface(types.of(t))) {
-                tree.kinds.put(k, K_PARENT, types.of(t));
+            int up = kindMeant(tree.kinds.get(k, K_EXT));
+            if (up >= 0 && !tree.isInterface(up)) {
+                tree.kinds.put(k, K_PARENT, up);
             }
         }
 
@@ -3868,23 +3880,24 @@ public final class FrontHouse {
             for (int n = first; n != 0; n = tree.node(n, NX)) {
                 judgeHang(k, n, true);
                 for (int o = first; o != n && o != 0; o = tree.node(o, NX)) {
-                    if (types.isKind(tree.node(n, TY)) && types.isKind(tree.node(o, TY))
-                        && types.of(tree.node(n, TY)) == types.of(tree.node(o, TY))) {
+                    if (kindMeant(n) >= 0 && kindMeant(n) == kindMeant(o)) {
                         tree.report(33, tree.node(n, PL));
                     }
                 }
             }
         }
 
+        /** What hangs is told by its name: a fault in its type arguments hides none here. */
         private void judgeHang(int k, int n, boolean face) {
-            int t = tree.node(n, TY);
-            if (t == 0) {
+            int up = kindMeant(n);
+            if (up < 0) {
+                if (types.isVar(tree.node(n, TY))) {
+                    tree.report(33, tree.node(n, PL));
+                }
                 return;
             }
-            int up = types.of(t);
             boolean last = !face && tree.kinds.has(up, K_FLAGS, FINAL);
-            boolean wrong = !types.isKind(t) || tree.isInterface(up) != face || last;
-            if (wrong || up == k || reaches(up, k)) {
+            if (tree.isInterface(up) != face || last || up == k || reaches(up, k)) {
                 tree.report(33, tree.node(n, PL));
             }
         }
@@ -3909,9 +3922,8 @@ public final class FrontHouse {
         private long hung(int list) {
             long set = 0;
             for (int n = list; n != 0; n = tree.node(n, NX)) {
-                int t = tree.node(n, TY);
-                if (types.isKind(t)) {
-                    set |= 1L << types.of(t);
+                if (kindMeant(n) >= 0) {
+                    set |= 1L << kindMeant(n);
                 }
             }
             return set;
@@ -6895,10 +6907,6 @@ public final class FrontHouse {
             }
             int least = i >= 0 ? heights[i] : 0;
             for (int t = tryCount - 1; t >= least; t--) {
-                if ((tree.node(tries[t], FL) & STUCK) != 0) {
-                    die();
-                    return;
-                }
                 da |= ends[t * 2];
                 du &= ends[t * 2 + 1];
             }
@@ -7152,9 +7160,6 @@ public final class FrontHouse {
                 tryCount--;
                 da |= ends[tryCount * 2];
                 du &= ends[tryCount * 2 + 1];
-                if ((tree.node(n, FL) & STUCK) != 0) {
-                    die();
-                }
             }
         }
     }

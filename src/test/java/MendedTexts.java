@@ -102,6 +102,74 @@ public final class MendedTexts {
         House.due(60, "class M { void m() { for (;;) { for (;;) { } `break; } } }");
     }
 
+    /** II, 33: what stands behind extends, implements is told by its name, whatever its type arguments are. */
+    private static void hangsByName() {
+        String face = "interface I<T> { } ";
+        House.due(33, face + "class A implements I<Object>, `I<Foo> { }");
+        House.due(33, face + "class A implements I<Object>, `I<I<Object>> { }");
+        House.due(31, face + "class A implements I<`Foo>, I<Object> { }");
+        House.due(33, face + "interface J extends I<Object>, `I<Foo> { }");
+        House.due(33, face + "interface K { } class A implements I<Object>, K, `I<Foo[]> { }");
+        House.due(31, face + "class A implements I<Object>, `I { }");
+        House.due(31, face + "class A implements `I, I<Object> { }");
+        House.due(31, face + "interface J<T> { } class A implements I<Object>, J<`Foo> { }");
+        House.due(33, face + "class A extends `I<Foo> { }");
+        House.due(33, "class B<T> { } class A implements `B<Foo> { }");
+        House.due(33, "class B<T> { } interface A extends `B<Foo> { }");
+        House.due(33, "final class B<T> { } class A extends `B<Foo> { }");
+        House.due(31, "class B<T> { } class A extends B<`Foo> { }");
+        House.due(33, "class A<T> extends `A<Foo> { }");
+        House.due(33, "class A<T> extends `B<Foo> { } class B<T> extends A<T> { }");
+        House.due(33, "class B<T> extends `A { } class A extends B { }");
+        House.due(31, "class A extends `B { } class B<T> extends A { }");
+        House.due(33, "class A<T> extends `B<Foo> { } class B<T> extends Exception { }");
+        House.due(31, "class A<T> extends `T<Foo> { }");
+        House.due(33, "class A<T> extends `T { }");
+    }
+
+    /** I: an initializer is a block, or static and a block [8.6], [8.7]; no other modifiers stand ahead of its {. */
+    private static void bracesOfInitializers() {
+        String[] mods = {"public", "protected", "private", "abstract", "final", "public static", "static final", "static static",
+            "static public", "final static", "abstract public"};
+        for (String m : mods) {
+            House.due(1, "class A { " + m + " `{ } }");
+            House.due(1, "class A { int x; " + m + " `{ } }");
+            House.due(1, "interface A { " + m + " `{ } }");
+            House.due(2, "class A { " + m + " `class B { } }");
+            House.due(2, "interface A { " + m + " `interface B { } }");
+        }
+        House.due(2, "class A { `{ } }");
+        House.due(2, "class A { static `{ } }");
+        House.due(2, "class A { ; static `{ } }");
+        House.due(2, "class A { void f() { } `{ } }");
+        House.due(1, "interface A { `{ } }");
+        House.due(1, "interface A { static `{ } }");
+    }
+
+    /** [16.2.15]: behind a try is unassigned what is so behind its block, its catches and its finally, whether that ends or not. */
+    private static void assignedAheadOfStuckFinally() {
+        String loop = "class A { void m(boolean b) { final int x; while (b) ";
+        House.due(62, loop + "{ try { x `= 1; } finally { return; } } } }");
+        House.due(62, loop + "{ try { x `= 1; } finally { } } } }");
+        House.due(62, loop + "{ try { x `= 1; continue; } finally { return; } } } }");
+        House.due(62, loop + "{ try { x `= 1; } catch (Error e) { } finally { while (true) { } } } } }");
+        House.due(62, loop + "{ try { } catch (Error e) { x `= 1; } finally { throw null; } } } }");
+        House.due(62, loop + "{ try { try { x `= 1; } finally { return; } } finally { return; } } } }");
+        House.due(62, loop + "{ try { } finally { try { x `= 1; } finally { return; } } } } }");
+        House.fine(loop + "{ try { x = 1; break; } finally { return; } } } }");
+        House.fine(loop + "{ try { x = 1; return; } finally { return; } } } }");
+        House.fine(loop + "{ try { x = 1; throw null; } finally { return; } } } }");
+        House.due(62, "class A { void m(boolean b) { final int x; do { try { x `= 1; continue; } finally { return; } } while (b); } }");
+        House.due(62, "class A { void m(int[] a) { final int x; for (int i : a) try { x `= 1; } finally { return; } } }");
+        House.due(62, "class A { void m(boolean b) { final int x; for (; b;) try { x `= 1; } finally { return; } } }");
+        House.fine("class A { void m(boolean b) { int x; while (b) { try { x = 1; continue; } finally { return; } } } }");
+        House.due(62, "class A { void m(boolean b) { final int x; L: { try { x = 1; break L; } finally { if (b) return; } } x `= 2; } }");
+        House.due(62, "class A { void m(boolean b) { final int x; L: { if (b) break L; try { x = 1; break L; } finally { return; } } x `= 2; } }");
+        House.fine("class A { int m(boolean b) { int x; L: { if (b) { x = 3; break L; } try { break L; } finally { return 1; } } return x; } }");
+        House.due(62, "class A { final int x; A(boolean b) { while (b) { try { x `= 1; } finally { throw null; } } x = 2; } }");
+        House.fine("class A { final int x; A() { try { return; } finally { throw null; } } }");
+    }
+
     public static void main(String[] args) {
         thrownByEach();
         erasedAsMember();
@@ -109,6 +177,9 @@ public final class MendedTexts {
         inheritedTogether();
         toldAlike();
         unreached();
+        hangsByName();
+        bracesOfInitializers();
+        assignedAheadOfStuckFinally();
         House.end("what was mended");
     }
 }
