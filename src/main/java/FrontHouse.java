@@ -6847,7 +6847,7 @@ public final class FrontHouse {
                 duTrue = duFalse;
                 daFalse = d;
                 duFalse = u;
-            } else if (kind == E_COND) {
+            } else if (kind == E_COND && tree.node(n, TY) == BOOLEAN) {
                 askConditional(n);
             } else {
                 visit(n);

@@ -170,6 +170,15 @@ public final class MendedTexts {
         House.fine("class A { final int x; A() { try { return; } finally { throw null; } } }");
     }
 
+    /** [16.1.5]: only of a conditional that is a boolean it is asked what is assigned when it is true, and when it is false. */
+    private static void conditionalsThatAreBoxes() {
+        String head = "class A { void m(boolean a, Boolean c) { int x; if (a || (x = 1) == 2 ? false : ";
+        House.fine(head + "false) x++; } }");
+        House.fine(head + "(x = 2) > 1) x++; } }");
+        House.due(61, head + "null) `x++; } }");
+        House.due(61, "class A { void m(boolean a, Boolean c) { int x; if (a || (x = 1) == 2 ? null : false) ; else `x++; } }");
+    }
+
     public static void main(String[] args) {
         thrownByEach();
         erasedAsMember();
@@ -180,6 +189,7 @@ public final class MendedTexts {
         hangsByName();
         bracesOfInitializers();
         assignedAheadOfStuckFinally();
+        conditionalsThatAreBoxes();
         House.end("what was mended");
     }
 }
