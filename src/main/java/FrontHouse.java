@@ -1752,6 +1752,8 @@ public final class FrontHouse {
             } else if (vars || none || ahead() == T_LPAREN) {
                 readMethod(mods, flags, type);
             } else {
+                // a field in an interface is static, told or not [9.3]
+                tree.scopes.put(scope, C_STATIC, face || (flags & STATIC) != 0 ? 1 : 0);
                 readFields(mods, flags, type);
             }
         }
@@ -1915,7 +1917,7 @@ public final class FrontHouse {
             if (tok == T_ASSIGN) {
                 next();
                 tree.fields.put(f, F_INIT, readInit(0));
-            } else if ((flags & FINAL) != 0 && fault == 0) {
+            } else if (fault == 0 && ((flags & FINAL) != 0 || tree.kinds.has(home, K_FLAGS, INTERFACE))) {
                 int blanks = tree.kinds.get(home, K_BLANKS);
                 if (blanks >= 20) {
                     stop(3, place);
@@ -5401,8 +5403,9 @@ public final class FrontHouse {
             }
             boolean row = types.isKind(to) && types.of(to) > BOOLEAN_BOX && types.of(to) < LONG_BOX;
             int p = types.isPrim(to) ? to : row ? types.unbox(to) : 0;
-            if (isConstant(n) && t >= BYTE && t <= INT && types.fits(tree.nodes.wide(n, LO), p)) {
-                return types.isPrim(to) ? types.conversion(t, to) : 8;
+            // no narrowing begins at byte [5.1.3]
+            if (isConstant(n) && t > BYTE && t <= INT && types.fits(tree.nodes.wide(n, LO), p)) {
+                return types.isPrim(to) ? 2 : 8;
             }
             return -1;
         }

@@ -179,6 +179,64 @@ public final class MendedTexts {
         House.due(61, "class A { void m(boolean a, Boolean c) { int x; if (a || (x = 1) == 2 ? null : false) ; else `x++; } }");
     }
 
+    /** [5.2]: a constant goes narrowed from short, char, int; no narrowing begins at byte [5.1.3]. */
+    private static void constantsOfBytes() {
+        String fin = "class A { void m() { final byte b = 1; ";
+        String[] wrong = {"Short s = `(byte) 1", "Character c = `(byte) 65", "char c = `(byte) 65", "Character c = `(byte) 0", "Integer i = `(byte) 1",
+            "Long l = `(byte) 1", "char[] c = { `(byte) 1 }", "Byte b = `(byte) 1 + 127", "Short s = `(short) 1 + 32767", "Byte b = `1L",
+            "Integer i = `(short) 1", "Integer i = `'a'", "Character c = `-1", "Byte b = `(char) 128", "boolean b = `1"};
+        for (String w : wrong) {
+            House.due(w.indexOf("+") < 0 ? 41 : 0, w.indexOf("+") < 0 ? "class A { " + w + "; }" : "class A { }");
+        }
+        House.due(41, "class A { Byte b = (byte) 1 `+ 127; }");
+        House.due(41, "class A { Short s = (short) 1 `+ 32767; }");
+        String[] right = {"Byte b = (byte) 1", "short s = (byte) 1", "Short s = 'a'", "Character c = (short) 65", "char c = (short) 65", "Byte b = (short) 1",
+            "byte b = 1", "byte b = 'a'", "byte b = (short) 1", "Short s = 1", "Short s = (short) 1", "Character c = 65", "char c = 'a'", "int i = (byte) 1",
+            "long l = (byte) 1", "Object o = (byte) 1", "Byte b = (byte) 1 + 126", "char c = (char) (byte) 65", "Short s = (short) (byte) 1"};
+        for (String r : right) {
+            House.fine("class A { " + r + "; }");
+        }
+        House.due(41, fin + "Short s = `b; } }");
+        House.due(41, fin + "char c = `b; } }");
+        House.due(41, fin + "Character c; c = `b; } }");
+        House.fine(fin + "Short s = b + 0; char c = b + 0; Character d = +b; short t = b; Byte e = b; } }");
+        House.due(41, "class A { char m() { return `(byte) 1; } }");
+        House.due(41, "class A { Short m() { return `(byte) 1; } }");
+        House.due(50, "class A { void m(char c) { switch (c) { case `(byte) 65: } } }");
+        House.due(50, "class A { void m(Character c) { switch (c) { case `(byte) 65: } } }");
+        House.due(50, "class A { void m(Short c) { switch (c) { case `(byte) 1: } } }");
+        House.fine("class A { void m(Byte c, short d, int e, char f) { switch (c) { case (byte) 1: case (short) 2: case 3: case 'a': } "
+            + "switch (d) { case (byte) 1: } switch (e) { case (byte) 1: } switch (f) { case (short) 1: } } }");
+        House.due(50, "class A { void m(Integer c) { switch (c) { case `(byte) 1: } } }");
+        FrontHouse x = House.taken("class A{byte d='a';Short s='a';Byte b=1;char c=65;Byte e=(short)1;short t=(byte)1;}");
+        int[] conversions = {2, 8, 8, 2, 8, 2, 1, 2};
+        for (int i = 0; i < conversions.length; i++) {
+            House.same("conversion " + i, x.expression(i, 2), conversions[i]);
+        }
+        House.same("expressions", x.count(3), conversions.length);
+    }
+
+    /** A field in an interface is static and final, whether it says so or not [9.3], though it is 34. */
+    private static void fieldsOfInterfaces() {
+        House.due(31, "interface I<T> { `T x; }");
+        House.due(31, "interface I<T> { I<`T> x; }");
+        House.due(31, "class T { } interface I<T> { `T x; }");
+        House.due(31, "interface I<T> { public `T[] x = null; }");
+        House.due(34, "interface I<T> { `static T x; }");
+        House.due(34, "interface I<T> { int `x; T y; }");
+        House.due(34, "interface I<T> { int `x = (int) (Object) (T) null; }");
+        House.due(34, "class T { } interface I { T `x; }");
+        House.due(34, "interface I<T> { T m(); T n(T t); int `x; }");
+        House.due(31, "interface I<T> { T m(); <T> T n(); `T x; }");
+        House.due(31, "class A<T> { static `T x; }");
+        House.fine("class A<T> { T x; }");
+        String twenty = "int " + House.row("a", "", ", ", 20);
+        House.due(3, "interface I { " + twenty + ", `z; }");
+        House.due(3, "interface I { " + twenty + "; int `z; }");
+        House.due(34, "interface I { int `" + twenty.substring(4) + ", z = 1; }");
+        House.fine("class I { " + twenty + ", z; }");
+    }
+
     public static void main(String[] args) {
         thrownByEach();
         erasedAsMember();
@@ -190,6 +248,8 @@ public final class MendedTexts {
         bracesOfInitializers();
         assignedAheadOfStuckFinally();
         conditionalsThatAreBoxes();
+        constantsOfBytes();
+        fieldsOfInterfaces();
         House.end("what was mended");
     }
 }

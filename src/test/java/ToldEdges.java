@@ -113,7 +113,8 @@ public final class ToldEdges {
         cast("T", "P", 9);
         cast("Object", "A<P, Integer>[]", 10);
         told("class A { byte b = `1; }", 4, 2, 0, 4);
-        told("class A { char b = `(byte) 1; }", 1, 11, 0, 1);
+        told("class A { byte a; char b = (char) `a; }", 1, 11, 0, 1);
+        told("class A { char b = `(short) 1; }", 2, 2, 0, 2);
         told("class A { Byte b = `1; }", 4, 8, 0, 4);
         told("class A { Character b = `97; }", 4, 8, 0, 4);
         told("class A { Object b = `1; }", 4, 4, 0, 4);
