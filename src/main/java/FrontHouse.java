@@ -6581,20 +6581,33 @@ public final class FrontHouse {
                 home = k;
                 targetCount = 0;
                 tryCount = 0;
-                initials(IN_START);
-                initials(IN_OBJECT);
+                initials(IN_START, 0);
+                long start = da & stillBits();
+                initials(IN_OBJECT, start);
                 long fieldDa = da & FIELD_BITS;
                 long fieldDu = du & FIELD_BITS;
                 for (int m = tree.kinds.get(k, K_M0); m < tree.kinds.get(k, K_M1); m++) {
-                    judgeBody(m, fieldDa, fieldDu);
+                    judgeBody(m, start, fieldDa, fieldDu);
                 }
             }
         }
 
-        /** The initial values of objects or of the class's start. */
-        private void initials(int what) {
+        /** The bits of the static fields, which are assigned in the class's start alone. */
+        private long stillBits() {
+            long set = 0;
+            for (int f = tree.kinds.get(home, K_F0); f < tree.kinds.get(home, K_F1); f++) {
+                int bit = tree.fields.get(f, F_BIT);
+                if (bit >= 0 && tree.fields.has(f, F_FLAGS, STATIC)) {
+                    set |= 1L << bit;
+                }
+            }
+            return set;
+        }
+
+        /** The initial values of objects or of the class's start; ahead is what is assigned ahead of them. */
+        private void initials(int what, long ahead) {
             mode = what;
-            da = 0;
+            da = ahead;
             du = ALL;
             boolean still = what == IN_START;
             for (int f = tree.kinds.get(home, K_F0); f < tree.kinds.get(home, K_F1); f++) {
@@ -6604,30 +6617,29 @@ public final class FrontHouse {
             }
             if (still || tree.kinds.get(home, K_CTOR) >= 0) {
                 for (int f = tree.kinds.get(home, K_F0); f < tree.kinds.get(home, K_F1); f++) {
-                    if (missing(f, da)) {
+                    if (missing(f, still, da)) {
                         tree.report(61, tree.fields.get(f, F_PLACE));
                     }
                 }
             }
         }
 
-        private boolean missing(int f, long set) {
-            int bit = fieldBit(f);
+        private boolean missing(int f, boolean still, long set) {
+            int bit = tree.fields.has(f, F_FLAGS, STATIC) == still ? fieldBit(f) : -1;
             return bit >= 0 && (set >> bit & 1) == 0;
         }
 
+        /** Objects' initial values and constructors read static fields, too, as the class's start leaves them. */
         private int fieldBit(int f) {
-            int bit = tree.fields.get(f, F_BIT);
-            boolean still = tree.fields.has(f, F_FLAGS, STATIC);
-            boolean here = tree.fields.get(f, F_KIND) == home && mode == (still ? IN_START : IN_OBJECT);
-            return here ? bit : -1;
+            boolean seen = mode == IN_OBJECT || (mode == IN_START && tree.fields.has(f, F_FLAGS, STATIC));
+            return seen && tree.fields.get(f, F_KIND) == home ? tree.fields.get(f, F_BIT) : -1;
         }
 
-        private void judgeBody(int m, long fieldDa, long fieldDu) {
+        private void judgeBody(int m, long start, long fieldDa, long fieldDu) {
             int body = tree.methods.get(m, M_BODY);
             boolean builds = tree.methods.has(m, M_FLAGS, CTOR);
             mode = builds ? IN_OBJECT : IN_METHOD;
-            da = 0;
+            da = start;
             du = ALL;
             endDa = ALL;
             for (int n = tree.methods.get(m, M_FORMALS); n != 0; n = tree.node(n, NX)) {
@@ -6640,7 +6652,7 @@ public final class FrontHouse {
                     visitAll(tree.node(first, CB));
                     first = tree.node(first, NX);
                 }
-                da = (da & ~FIELD_BITS) | (again ? FIELD_BITS : fieldDa);
+                da = (da & ~FIELD_BITS) | (again ? start | (FIELD_BITS & ~stillBits()) : fieldDa);
                 du = (du & ~FIELD_BITS) | (again ? 0 : fieldDu);
             }
             for (int n = first; n != 0; n = tree.node(n, NX)) {
@@ -6648,7 +6660,7 @@ public final class FrontHouse {
             }
             if (builds && !again) {
                 for (int f = tree.kinds.get(home, K_F0); f < tree.kinds.get(home, K_F1); f++) {
-                    if (missing(f, da & endDa)) {
+                    if (missing(f, false, da & endDa)) {
                         tree.report(61, tree.methods.get(m, M_PLACE));
                     }
                 }

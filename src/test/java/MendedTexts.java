@@ -237,6 +237,28 @@ public final class MendedTexts {
         House.fine("class I { " + twenty + ", z; }");
     }
 
+    /** IV, 61: constructors and objects' initial values read static final fields, too, as the class's start leaves them. */
+    private static void readsOfStaticFinals() {
+        House.due(61, "class A { A() { int z = `x; } static final int x; }");
+        House.due(61, "class A { int y = `x; static final int x; }");
+        House.due(61, "class A { int y = this.`x; static final int x; }");
+        House.due(61, "class A { A(int q) { } A() { this(`x); } static final int x; }");
+        House.due(61, "class A { A(int q) { } A() { super(); q(`x); } void q(int p) { } static final int x; }");
+        House.due(61, "class A { A(int q) { } A() { this(1); int y = this.`x; } static final int x; }");
+        House.due(61, "class A { static final int `x; A() { int z = x; } }");
+        House.due(61, "class A { int m() { return x; } static int n() { return x; } int y = A.x; static final int `x; }");
+        House.due(61, "class A { A() { int z = new A().x; } static final int `x; }");
+        House.due(61, "class A { A(boolean b) { int z = b ? 1 : `x; } static final int x; static int y = A.n(true) ? 1 : (x = 2); static boolean n(boolean b) { return b; } }");
+        House.fine("class A { static int y = x = 5; static final int x; A() { int z = x; } }");
+        House.fine("class A { int y = x; static int z = x = 5; static final int x; }");
+        House.fine("class A { int y = this.x; static int z = n(x = 5); static final int x; static int n(int p) { return x; } A() { this(x); } A(int p) { y = x; } }");
+        House.fine("class A { final int y; static final int q; int z = y = q; static int r = q = 1; }");
+        House.due(61, "class A { `A() { } final int y; static final int q; static int r = q = 1; }");
+        House.due(62, "class A { A() { y = 1; y `= 2; } final int y; static final int q; static int r = q = 1; }");
+        House.due(61, "class A { static final int `x; static int z = x; A() { int y = x; } }");
+        House.due(48, "class A { A() { x `= 1; } static final int x; }");
+    }
+
     public static void main(String[] args) {
         thrownByEach();
         erasedAsMember();
@@ -250,6 +272,7 @@ public final class MendedTexts {
         conditionalsThatAreBoxes();
         constantsOfBytes();
         fieldsOfInterfaces();
+        readsOfStaticFinals();
         House.end("what was mended");
     }
 }
