@@ -64,6 +64,8 @@ public final class FineEdges {
             House.fine("abstract class P { abstract Object f(); } abstract class Q extends P { abstract " + things[i] + " f(); }");
             House.due(37, "interface I { " + numbers[i] + " f(); } interface J { " + things[i] + " f(); } interface `K extends I, J { }");
         }
+        House.fine("interface I { int f(); void g(); Object h(); } interface J { int f(); Object h(); boolean i(); } abstract class K implements I, J { abstract long j(); }");
+        House.due(37, "interface I { int f(); void g(); } interface J { void g(); long f(); } abstract class `K implements I, J { abstract long j(); }");
         String face = "class K { } interface I<T> { void f(T t); } interface J { <V extends K> ";
         House.fine(face + "void f(V v); } interface L extends I<K>, J { }");
         House.due(37, face + "int f(V v); } interface `L extends I<K>, J { }");
@@ -117,6 +119,7 @@ public final class FineEdges {
         House.due(44, "class A { void f(Integer a, Object... b) { } void f(Integer... a) { } void g() { `f(1); } }");
         House.due(44, "interface I { void f(I a, Object b); void f(Object a, I b); } class A { void g(I i) { i.`f(i, i); } }");
         House.due(44, "interface I { void f(int... a); void f(int a, int... b); } class A { void g(I i) { i.`f(1); } }");
+        House.due(44, "abstract class I { abstract void f(int... a); void f(int a, int... b) { } } class A { void g(I i) { i.`f(1); } }");
         House.due(44, "abstract class I { abstract void f(I a, Object b); void f(Object a, I b) { } } class A { void g(I i) { i.`f(i, i); } }");
     }
 
@@ -182,6 +185,9 @@ public final class FineEdges {
     private static void assigned() {
         House.due(62, "class A { void f(boolean c) { final int x; boolean b = c && (x = 1) > 0; x `= 2; } }");
         House.due(62, "class A { void f(boolean c) { final int x; boolean b = c || (x = 1) > 0; x `= 2; } }");
+        House.due(62, "class A { void f(boolean c) { final int x; boolean b = c && ((x = 1) > 0 && false); x `= 2; } }");
+        House.due(62, "class A { void f(boolean c) { final int x; boolean b = c || ((x = 1) > 0 || true); x `= 2; } }");
+        House.fine("class A { void f(boolean c) { final int x; if (c && ((x = 1) > 0 && false)) x = 2; } }");
         House.due(61, "class A { void f(boolean c) { int x; boolean b = c && (x = 1) > 0; c = `x > 0; } }");
         House.due(61, "class A { int x; void f() { A a; `a.x = 1; } }");
         House.due(61, "class A { int x; void f() { A a; `a.x += 1; } }");
@@ -306,7 +312,7 @@ public final class FineEdges {
         String[][] rows = {{"A<B>", "A<B>", "0"}, {"A<B>", "A<D>", "-1"}, {"A<T>", "A<B>", "10"}, {"A<B>", "A<T>", "10"}, {"A<U>", "A<B>", "10"},
             {"A<U>", "A<D>", "10"}, {"A<V>", "A<B>", "-1"}, {"A<U>", "A<V>", "-1"}, {"A<T>", "A<U>", "10"}, {"A<W>", "A<B>", "-1"}, {"A<W>", "A<I<D>>", "10"},
             {"A<Z>", "A<I<B>>", "10"}, {"A<W>", "A<Z>", "10"}, {"A<T[]>", "A<B[]>", "-1"}, {"A<T>", "A<B[]>", "10"}, {"A<A<T>>", "A<A<B>>", "-1"},
-            {"A<B>", "E<B>", "9"}, {"A<B>", "E<D>", "-1"}, {"A<B>", "E<T>", "10"}, {"A<T>", "E<B>", "10"}, {"E<B>", "A<B>", "7"}, {"E<B>", "A<D>", "-1"},
+            {"A<B>", "E<B>", "9"}, {"A<B>", "E<D>", "-1"}, {"A<B>", "E<T>", "10"}, {"A<B>[]", "E<B>[]", "9"}, {"A<B>[][]", "E<T>[][]", "10"}, {"A<B>[]", "E<D>[]", "-1"}, {"Object[]", "A<B>[][]", "10"}, {"A<T>", "E<B>", "10"}, {"E<B>", "A<B>", "7"}, {"E<B>", "A<D>", "-1"},
             {"I<B>", "K", "9"}, {"I<D>", "K", "-1"}, {"I<T>", "K", "9"}, {"I<V>", "K", "-1"}, {"I<B>", "R<D, D>", "10"}, {"K", "I<B>", "7"}, {"K", "I<D>", "-1"},
             {"R<B, B>", "S<B, B>", "9"}, {"R<B, D>", "S<D, B>", "9"}, {"R<B, D>", "S<B, D>", "-1"}, {"R<T, D>", "S<D, T>", "9"}, {"S<B, D>", "R<D, B>", "7"},
             {"A<A<B>>", "Q<B>", "9"}, {"A<A<B>>", "Q<D>", "-1"}, {"A<A<T>>", "Q<T>", "9"}, {"A<B>", "Q<B>", "-1"}, {"A<T>", "Q<B>", "10"}, {"Q<B>", "A<A<B>>", "7"},
