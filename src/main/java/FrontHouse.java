@@ -202,6 +202,8 @@ public final class FrontHouse {
     private static final int STUCK = 64;
     private static final int MARKED = 128;
     private static final int IS_EXP = 256;
+    /** Put together as a constant is, but ends abruptly: no constant, though a whole around it may be one. */
+    private static final int ABRUPT = 512;
 
     // columns of a kind
     private static final int K_NAME = 0;
@@ -4195,6 +4197,11 @@ public final class FrontHouse {
             return types.put(t);
         }
 
+        boolean isOwnVar(int m, int t) {
+            int i = types.isVar(t) ? types.of(t) - tree.methods.get(m, M_VAR0) : -1;
+            return i >= 0 && i < tree.methods.get(m, M_VARS);
+        }
+
         int formal(int m, int i, int view, int list) {
             return seen(m, types.listed(tree.methods.get(m, M_FTYPES) + i), view, list);
         }
@@ -4975,6 +4982,11 @@ public final class FrontHouse {
             return (tree.node(n, FL) & CONST) != 0;
         }
 
+        /** Whether a constant may have it as its part [15.29]; in brackets only a constant may stand. */
+        private boolean isPart(int n) {
+            return isConstant(n) || (tree.node(n, FL) & (ABRUPT | PAREN)) == ABRUPT;
+        }
+
         /** A number as a primitive type holds it. */
         static long shaped(long v, int prim) {
             switch (prim) {
@@ -5460,7 +5472,7 @@ public final class FrontHouse {
 
         private void noteExp(int n) {
             tree.nodes.mark(n, FL, IS_EXP);
-            tree.nodes.unmark(n, FL, CONST);
+            tree.nodes.unmark(n, FL, CONST | ABRUPT);
             tree.set(n, CV, 0);
             noteAt(n);
         }
@@ -5786,6 +5798,8 @@ public final class FrontHouse {
                 long v = tree.nodes.wide(e, LO);
                 long w = op == T_NOT ? 1 - v : op == T_MINUS ? -v : op == T_TILDE ? ~v : v;
                 setConstant(n, shaped(w, made));
+            } else if (isPart(e)) {
+                tree.nodes.mark(n, FL, ABRUPT);
             }
             return made;
         }
@@ -5818,6 +5832,8 @@ public final class FrontHouse {
                     tree.set(e, TG, to);
                     if (isConstant(e) && types.isPrim(to)) {
                         setConstant(n, shaped(tree.nodes.wide(e, LO), to));
+                    } else if (isPart(e) && types.isPrim(to)) {
+                        tree.nodes.mark(n, FL, ABRUPT);
                     }
                 }
             }
@@ -5855,7 +5871,7 @@ public final class FrontHouse {
                 boolean shift = op >= T_SHL && op <= T_USHR;
                 convert(left, p);
                 convert(right, shift ? types.promoted(types.prim(b)) : p);
-                if (isConstant(left) && isConstant(right)) {
+                if (isPart(left) && isPart(right)) {
                     fold(n, op, p);
                 }
             }
@@ -5898,12 +5914,16 @@ public final class FrontHouse {
         }
 
         private void fold(int n, int op, int p) {
-            long a = tree.nodes.wide(tree.node(n, CA), LO);
-            long b = tree.nodes.wide(tree.node(n, CB), LO);
-            if ((op == T_SLASH || op == T_PERCENT) && b == 0) {
-                return;
-            }
-            if (op >= T_EQ && op <= T_GT) {
+            int left = tree.node(n, CA);
+            int right = tree.node(n, CB);
+            long a = tree.nodes.wide(left, LO);
+            long b = tree.nodes.wide(right, LO);
+            boolean decided = isConstant(left) && (op == T_OROR ? a != 0 : op == T_ANDAND && a == 0);
+            if (decided) {
+                setConstant(n, a);
+            } else if (!isConstant(left) || !isConstant(right) || ((op == T_SLASH || op == T_PERCENT) && b == 0)) {
+                tree.nodes.mark(n, FL, ABRUPT);
+            } else if (op >= T_EQ && op <= T_GT) {
                 setConstant(n, compared(op, a, b) ? 1 : 0);
             } else {
                 setConstant(n, worked(op, p == LONG, a, b));
@@ -5960,16 +5980,35 @@ public final class FrontHouse {
             convert(yes, t);
             convert(no, t);
             int c = tree.node(n, CA);
-            if (types.isPrim(t) && isConstant(c) && isConstant(yes) && isConstant(no)) {
-                setConstant(n, shaped(tree.nodes.wide(tree.nodes.wide(c, LO) != 0 ? yes : no, LO), t));
+            if (types.isPrim(t) && isPart(c) && isPart(yes) && isPart(no)) {
+                int chosen = tree.nodes.wide(c, LO) != 0 ? yes : no;
+                if (isConstant(c) && isConstant(chosen)) {
+                    setConstant(n, shaped(tree.nodes.wide(chosen, LO), t));
+                } else {
+                    tree.nodes.mark(n, FL, ABRUPT);
+                }
             }
             return t;
         }
 
+        /** The primitive type as which an operand of a conditional counts [15.25]; 0 if it is no number, no boolean. */
+        private int countsAs(int n, int t) {
+            int m = tree.node(n, SY);
+            if (tree.node(n, KD) != E_CALL || tree.methods.get(m, M_VARS) == 0) {
+                return types.prim(t);
+            }
+            // the method's own vars aren't put in there, what its kind's vars stand for is
+            int made = tree.methods.get(m, M_TYPE);
+            for (int i = 0; i < 5 && heads.isOwnVar(m, made); i++) {
+                made = types.bound(made);
+            }
+            return types.prim(heads.seen(m, made, tree.node(n, CD), NONE));
+        }
+
         /** The type of a conditional with these operands [15.25], 0 if it isn't found. */
         private int joined(int yes, int no, int a, int b) {
-            int pa = types.prim(a);
-            int pb = types.prim(b);
+            int pa = countsAs(yes, a);
+            int pb = countsAs(no, b);
             if (a == b) {
                 return a;
             }

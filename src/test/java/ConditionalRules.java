@@ -133,18 +133,19 @@ public final class ConditionalRules {
         House.same(text + "\n   second part", x.expression(no, 2), conversion(b[1], b[2], due));
     }
 
-    /** A conditional is a constant if its three parts are, and its value is that of the one that counts. */
+    /** A conditional is put together of three parts; it is a constant if what counts of them is, and has its value. */
     private static void constants() {
         String[] texts = {"true ? 1 : 2", "false ? 1 : 2", "1 < 2 ? 'a' : 'b'", "1 > 2 ? 'a' : 'b'", "true ? 'a' : 200", "false ? 'a' : 200",
             "true ? -1 : 'a'", "false ? -1 : 'a'", "true ? 1L : 2", "false ? 1L : 2", "true ? false : true", "false ? false : true",
-            "true ? (byte) 1 : (short) 300", "false ? (byte) 1 : (short) 300", "true ? 1 : 1 / 0", "k ? 1 : 2", "true ? i : 2", "true ? 1 : null"};
-        long[] values = {1, 2, 97, 98, 97, 200, -1, 97, 1, 2, 0, 1, 1, 300, 0, 0, 0, 0};
-        int[] types = {4, 4, 3, 3, 3, 3, 4, 4, 5, 5, 0, 0, 2, 2, 4, 4, 4, 8};
+            "true ? (byte) 1 : (short) 300", "false ? (byte) 1 : (short) 300", "true ? 1 : 1 / 0", "false ? 1 / 0 : 2L", "true ? 1 / 0 : 1", "true ? 1 : (1 / 0)",
+            "k ? 1 : 2", "true ? i : 2", "true ? 1 : null", "true ? 1 : i / 0"};
+        long[] values = {1, 2, 97, 98, 97, 200, -1, 97, 1, 2, 0, 1, 1, 300, 1, 2, 0, 0, 0, 0, 0, 0};
+        int[] types = {4, 4, 3, 3, 3, 3, 4, 4, 5, 5, 0, 0, 2, 2, 4, 5, 4, 4, 4, 4, 8, 4};
         for (int i = 0; i < texts.length; i++) {
             String ahead = "class A { boolean k; int i; Object o = ";
             FrontHouse x = House.taken(ahead + texts[i] + "; }");
             int e = at(x, ahead.length() + texts[i].indexOf('?'));
-            House.same(texts[i] + " is a constant", x.expression(e, 3), i < 14 ? 1 : 0);
+            House.same(texts[i] + " is a constant", x.expression(e, 3), i < 16 ? 1 : 0);
             House.same(texts[i], x.constant(e), values[i]);
             House.same(texts[i] + " has the type", x.expression(e, 1), types[i]);
         }

@@ -259,6 +259,97 @@ public final class MendedTexts {
         House.due(48, "class A { A() { x `= 1; } static final int x; }");
     }
 
+    /** [15.29]: that it doesn't end abruptly is asked of a constant as a whole (issue 32); brackets hold constants alone. */
+    private static void constantsAsAWhole() {
+        String[] yes = {"true?1:1/0", "false?1/0:1", "true||1/0==0?1:2", "false&&1/0==0?2:1", "(true?1:1/0)", "true?1:1%0", "((true)?(1):1/0)",
+            "true?1:(int)1/0", "(true?1L:1/0L)==1?1:2", "!(false&&1/0==0)?1:2", "true?true?1:1/0:1/0", "false||(true||1/0==0)?1:2",
+            "true?1:true?1/0:2", "true?1:1/0>0&&true?2:3", "true?1:~+-1/0", "true?1:1<<1/0", "true||!!(true&&true)&&1%0!=0?1:2", "1+(true?0:0/0)",
+            "true||false&&1/0==0?1:1/0", "(int)(true?1L:1L/0)", "true?1:(byte)-1/0", "true?1:1/0==0?1/0:2/0", "false&&!!false&&1/0==0?2:1"};
+        String[] no = {"1/0", "true?1/0:1", "false?1:1/0", "true&&1/0==0?1:2", "false||1/0==0?1:2", "true||(1/0==0)?1:2", "true?1:(1/0)", "true?1:-(1/0)",
+            "true?1:(int)(1/0)", "true?1:(Integer)1", "true?1:(int)(Integer)1", "true?1:i/0", "1/0==0||true?1:2", "1/0==0&&false?1:2", "1/0==0?1:1",
+            "(true?1:1/0)/0", "true?1:(1/0)+1", "true?1:(true?1/0:1)", "-1/0", "true?1:(true&&1/0==0)?1:2", "1+1/0", "true||(true?1/0==0:true)?1:2",
+            "true?1:-(-1/0*0)==0?2:1", "true?1:((1/0))", "true?1:(int)-1/i", "true|1/0==0?1:2", "false&1/0==0?2:1", "true?1:(-1/0)*0"};
+        String label = "class A { void m(int i, int x) { switch (x) { case ";
+        for (String e : yes) {
+            House.fine(label + e + ": } } }");
+            House.fine("class A { byte b = " + e + "; int m() { while (1 == (" + e + ")) { } } }");
+            House.due(60, "class A { void m() { while (1 == (" + e + ")) { } `int x; } }");
+            House.due(50, "class A { static final int K = " + e + "; void m(int i) { switch (i) { case 1: case `K: } } }");
+        }
+        for (String e : no) {
+            House.same(e, House.judged(label + e + ": } } }").fault(0), 50);
+            House.same(e, House.judged("class A { int i; byte b = " + e + "; }").fault(0), 41);
+            House.fine("class A { void m(int i) { while (1 == (" + e + ")) { } int x; } }");
+        }
+        FrontHouse x = House.taken("class A{static final boolean b=true||1/0==0;static final int c=b?2:1/0;}");
+        StringBuilder all = new StringBuilder();
+        for (int i = 0; i < x.count(3); i++) {
+            all.append(i == 0 ? "" : " ").append(x.expression(i, 0)).append('/').append(x.expression(i, 3)).append('/').append(x.constant(i));
+        }
+        House.same("constants", all.toString(), "31/1/1 35/1/1 37/1/1 38/0/0 39/1/0 40/0/0 42/1/0 63/1/1 64/1/2 65/1/2 67/1/1 68/0/0 69/1/0");
+        House.same("how many", x.count(6), 10);
+        House.same("run", ran("class Main{static final int c=true?5:1/0;int i=false?1/0:6;static void main(){Out.put(c);Out.put(new Main().i);Out.put(true||1/0==0);}}"), "0 1/5 1/6 0/1");
+    }
+
+    /** How a run ended and what it put. */
+    private static String ran(String text) {
+        FrontHouse x = House.taken(text);
+        StringBuilder all = new StringBuilder();
+        all.append(x.run(1000, 1000)).append(x.about(1) != 0 ? " by " + x.about(1) : "");
+        for (int i = 0; i < x.about(4); i++) {
+            all.append(' ').append(x.out(i, 0)).append('/').append(x.out(i, 1));
+        }
+        return all.toString();
+    }
+
+    /** III, ?: by [15.25]: a call counts by its method's result ahead of its own type arguments (issue 31). */
+    private static void callsThatCountByTheirMethod() {
+        String head = "class A<K>{<T>T id(T t){return t;}<T extends Integer>T in(T t){return t;}<T,U extends T>U two(T t,U u){return u;}"
+            + "<T extends Integer,U extends T>U up(U u){return u;}<T>Integer box(T t){return 1;}<T>int num(T t){return 1;}<T>K key(K k,T t){return k;}"
+            + "<T extends K>T of(T t){return t;}K get(K k){return k;}K f;static<T>T s(T t){return t;}<T>T[]row(T[]t){return t;}}"
+            + "class B extends A<Integer>{Integer n;boolean z;Object o;void m(){for(;;o=z?";
+        String[][] parts = {{"this.<Integer>id(n)", "8"}, {"(this.<Integer>id(n))", "8"}, {"super.<Integer>id(n)", "8"}, {"A.<Integer>s(n)", "8"},
+            {"this.<Integer,Integer>two(n,n)", "8"}, {"this.<Integer>in(n)", "4"}, {"this.<Integer,Integer>up(n)", "4"}, {"this.<Object>box(n)", "4"},
+            {"this.<Object>num(n)", "4"}, {"this.<Object>key(n,n)", "4"}, {"this.<Integer>of(n)", "4"}, {"get(n)", "4"}, {"f", "4"}, {"n", "4"},
+            {"(Integer)this.<Integer>id(n)", "4"}, {"+this.<Integer>id(n)", "4"}, {"this.<Integer[]>id(null)[0]", "4"}, {"this.<Integer>row(null)[0]", "4"}};
+        for (String[] p : parts) {
+            for (int turn = 0; turn < 2; turn++) {
+                String text = head + (turn == 0 ? p[0] + ":2" : "2:" + p[0]) + ");}}";
+                int ask = head.length() - 1;
+                FrontHouse x = House.taken(text);
+                for (int i = 0; i < x.count(3); i++) {
+                    if (x.expression(i, 0) == ask) {
+                        House.same(text + "\n   type", x.expression(i, 1), p[1].equals("8") ? 8 : 4);
+                        House.same(text + "\n   goes", x.expression(i, 2), p[1].equals("8") ? 7 : 4);
+                    }
+                }
+                House.same(text + " with long", House.judged(text.replace(":2)", ":2L)").replace("?2:", "?2L:")).fault(0), p[1].equals("8") ? 54 : 0);
+            }
+        }
+        String id = "class A{<T>T id(T t){return t;}void m(boolean c){Object o=c?";
+        FrontHouse x = House.taken(id + "this.<Integer>id(1):2;}}");
+        long[] due = {8, 7, -18, 8, 0, -18, 4, 3, 0};
+        int[] rows = {2, 4, 6};
+        for (int i = 0; i < rows.length; i++) {
+            House.same("type of " + rows[i], x.expression(rows[i], 1), due[i * 3]);
+            House.same("conversion of " + rows[i], x.expression(rows[i], 2), due[i * 3 + 1]);
+            House.same("kind of " + rows[i], x.expression(rows[i], 4), due[i * 3 + 2]);
+        }
+        House.due(54, "class A{<T>T id(T t){return t;}void m(boolean c){Object o=c`?this.<Byte>id(null):2;}}");
+        House.due(54, "class A{<T>T id(T t){return t;}void m(boolean c){Object o=c`?this.<Integer>id(1):this.<Long>id(2L);}}");
+        House.fine("class A{<T>T id(T t){return t;}<T extends Long>T in(T t){return t;}void m(boolean c){Object o=c?1:this.<Long>in(2L);}}");
+        House.due(54, "class A{<T>T id(T t){return t;}void m(boolean c){Object o=c`?this.<Boolean>id(true):1;}}");
+        // a conditional of Boolean isn't one of booleans for [16.1.5]
+        House.due(61, "class A{<T>T id(T t){return t;}void m(boolean c){int k;if(c?this.<Boolean>id((k=1)>0):false&&(k=1)>0)`k++;k=k;}}");
+        House.due(61, "class A{<T>T id(T t){return t;}void m(boolean c){int k;if(c?this.<Boolean>id((k=1)>0):(false&&true))k=`k;}}");
+        House.fine("class A{Boolean id(Boolean t){return t;}void m(boolean c){int k;if(c?id((k=1)>0):(false&&true))k=k;}}");
+        String main = "class A{<T>T id(T t){return t;}Integer n(){return null;}}class Main{static void main(){Object o=true?";
+        House.same("null of a var", ran(main + "new A().<Integer>id(null):2;Out.put(o);}}"), "0 4/0");
+        House.same("null of a var, behind", ran(main + "new A().<Boolean>id(null):true;Out.put(o);}}"), "0 4/0");
+        House.same("null of a box", ran(main + "new A().n():2;Out.put(o);}}"), "1 by -11");
+        House.same("a number goes", ran(main + "new A().<Integer>id(null):2;int i=false?new A().<Integer>id(null):2;Out.put(i);i=true?new A().<Integer>id(null):2;}}"), "1 by -11 1/2");
+    }
+
     public static void main(String[] args) {
         thrownByEach();
         erasedAsMember();
@@ -273,6 +364,8 @@ public final class MendedTexts {
         constantsOfBytes();
         fieldsOfInterfaces();
         readsOfStaticFinals();
+        constantsAsAWhole();
+        callsThatCountByTheirMethod();
         House.end("what was mended");
     }
 }
