@@ -27,7 +27,7 @@ public final class GrammarRules {
         "impl0 = | 'implements refs",
         "iext0 = | 'extends refs",
         "refs = ref | refs ', ref",
-        "cmembers = | cmembers '; | cmembers field | cmembers method | cmembers ctor | cmembers mods !{ | cmembers mods !class | cmembers mods !interface",
+        "cmembers = | cmembers '; | cmembers field | cmembers method | cmembers ctor | cmembers !{ | cmembers 'static !{ | cmembers mods !class | cmembers mods !interface",
         "imembers = | imembers '; | imembers field | imembers method | imembers mods !class | imembers mods !interface",
         "field = mods type decls ';",
         "decls = decl | decls ', decl",
