@@ -5,7 +5,9 @@
 public final class ConditionalRules {
     private static final String HEAD = "class N { static Object n; } class B { } class D extends B { } interface F { } class A<T extends Integer, U extends B> { "
         + "boolean z; Boolean zz; byte b; Byte bb; short s; Short ss; char c; Character cc; int i; Integer ii; long l; Long ll; "
-        + "Object o; B p; D d; F f; T t; U u; int[] q; Object[] r; B[] v; D[] w; void m(boolean k) { for (; ; ";
+        + "Object o; B p; D d; F f; T t; U u; int[] q; Object[] r; B[] v; D[] w; <V> V id(V v) { return v; } <V extends Byte> V in(V v) { return v; } "
+        + "<V extends T> V un(V v) { return v; } <V, W extends V> W of(W v) { return v; } <V> Long bx(V v) { return 1L; } <V> short nm(V v) { return 1; } "
+        + "<V> T tt(V v) { return t; } <V> V[] ro(V v) { return null; } void m(boolean k) { for (; ; ";
 
     // name, type, what it counts as (a primitive type, or the type itself), value of a constant of type int
     private static final String[][] OPERANDS = {
@@ -20,7 +22,11 @@ public final class ConditionalRules {
         {"65536", "int", "int", "65536"}, {"-32768", "int", "int", "-32768"}, {"-32769", "int", "int", "-32769"},
         {"null", "null", "null", ""}, {"o", "Object", "Object", ""}, {"p", "B", "B", ""}, {"d", "D", "D", ""}, {"f", "F", "F", ""},
         {"u", "U", "U", ""}, {"this", "A", "A", ""}, {"q", "int[]", "int[]", ""}, {"r", "Object[]", "Object[]", ""},
-        {"v", "B[]", "B[]", ""}, {"w", "D[]", "D[]", ""}};
+        {"v", "B[]", "B[]", ""}, {"w", "D[]", "D[]", ""},
+        {"this.<Integer>id(ii)", "Integer", "Integer", ""}, {"this.<Boolean>id(zz)", "Boolean", "Boolean", ""}, {"this.<Byte>id(bb)", "Byte", "Byte", ""},
+        {"this.<T>id(t)", "T", "T", ""}, {"this.<Byte>in(bb)", "Byte", "byte", ""}, {"this.<T>un(t)", "T", "int", ""}, {"this.<D>id(d)", "D", "D", ""},
+        {"this.<Object, Long>of(ll)", "Long", "Long", ""}, {"this.<D>bx(d)", "Long", "long", ""}, {"this.<D>nm(d)", "short", "short", ""},
+        {"this.<D>tt(d)", "T", "int", ""}, {"this.<D>ro(d)", "D[]", "D[]", ""}, {"this.<Integer>ro(ii)[0]", "Integer", "int", ""}};
     private static final String[] PRIMS = {"boolean", "byte", "short", "char", "int", "long"};
     private static final String[] BOXES = {"Boolean", "Byte", "Short", "Character", "Integer", "Long"};
 
@@ -116,6 +122,11 @@ public final class ConditionalRules {
         return -1;
     }
 
+    /** Where an operand's PLACE is: a call's its name's, an element's its [. */
+    private static int offset(String operand) {
+        return operand.indexOf('[') > 0 ? operand.indexOf('[') : operand.indexOf(".<") > 0 ? operand.indexOf('>') + 1 : 0;
+    }
+
     private static void pair(String[] a, String[] b) {
         String ahead = HEAD + "N.n = k ? ";
         String text = ahead + a[0] + " : " + b[0] + ") ; } }";
@@ -127,8 +138,8 @@ public final class ConditionalRules {
         }
         FrontHouse x = House.taken(text);
         House.same(text + "\n   type", x.expression(at(x, ask), 1), kindOf(due));
-        int yes = at(x, ask + 2);
-        int no = at(x, ask + 2 + a[0].length() + 3);
+        int yes = at(x, ask + 2 + offset(a[0]));
+        int no = at(x, ask + 2 + a[0].length() + 3 + offset(b[0]));
         House.same(text + "\n   first part", x.expression(yes, 2), conversion(a[1], a[2], due));
         House.same(text + "\n   second part", x.expression(no, 2), conversion(b[1], b[2], due));
     }
